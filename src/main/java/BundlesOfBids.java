@@ -54,13 +54,12 @@ public final class BundlesOfBids {
     private final Print print = new Print();
     private final int[] told = new int[MOST_IN_ROW];
     private final int[] refusals = new int[7];
-    private int toldCount;
-    private boolean hasPicture;
+    private int toldCount = 0;
+    private boolean hasPicture = false;
 
     /** No bids; all bidders are ANY, nothing is kept back. */
     public BundlesOfBids() {
-        toldCount = 0;
-        hasPicture = false;
+        // The fields are as they must be from the start.
     }
 
     /** A letter comes: how many there are. */
@@ -256,7 +255,7 @@ public final class BundlesOfBids {
             case 0:
                 return sale.reserveOf(item);
             case 1:
-                return firstBit(sale.holders(1 << item) & winnersOf(sale));
+                return firstBid(sale.holders(1 << item) & winnersOf(sale));
             case 2:
                 return scarcity(item);
             case 3:
@@ -278,7 +277,8 @@ public final class BundlesOfBids {
             case 1:
                 return rivals & winnersOf(sale);
             case 2:
-                return outbidBy(bid, rivals, winnersOf(sale));
+                // One of the winners has no rival among them: then this is below 0, too.
+                return Math.max(0, sale.pricesOf(rivals & winnersOf(sale)) - sale.priceOf(bid));
             default:
                 return refuse(OTHER);
         }
@@ -618,8 +618,13 @@ public final class BundlesOfBids {
         return (bits >> place) & 1;
     }
 
-    private static int firstBit(int bits) {
-        return bits == 0 ? NONE : Integer.numberOfTrailingZeros(bits);
+    private static int firstBid(int bits) {
+        for (int b = 0; b < MOST_BIDS; b++) {
+            if (bitAt(bits, b) == 1) {
+                return b;
+            }
+        }
+        return NONE;
     }
 
     private static int bidsOrWorth(int key, int what) {
@@ -661,13 +666,6 @@ public final class BundlesOfBids {
         trial.active &= ~trial.holders(1 << item);
         trial.setReserve(item, 0);
         return worthOf(sale) - worthOf(trial);
-    }
-
-    private int outbidBy(int bid, int rivals, int winning) {
-        if (bitAt(winning, bid) == 1) {
-            return 0;
-        }
-        return Math.max(0, sale.pricesOf(rivals & winning) - sale.priceOf(bid));
     }
 
     // Bids of bidders of their own that are ANY are as free of one another as those of one ANY:
@@ -941,7 +939,7 @@ public final class BundlesOfBids {
             gatherPacks(sale);
             size = 0;
             for (int p = 0; p < packCount; p++) {
-                if (sale.allows(packs[p])) {
+                if (size < keys.length && sale.allows(packs[p])) {
                     keys[size] = keyOf(packs[p], packWorths[p]);
                     size++;
                 }

@@ -571,6 +571,11 @@ public final class PromisesTest {
         due("none", y.winners(3), 1);
         BundlesOfBids z = told("bid 0 abc 10;bid 1 a 3;");
         due("a third of a price", z.winners(3), 4);
+        BundlesOfBids ten = new BundlesOfBids();
+        for (int i = 0; i < 10; i++) {
+            ten.bids(0, 1, 90 - i);
+        }
+        due("the first, then ten without, then one below", ten.winners(3), 12);
     }
 
     private static void rank() {
@@ -667,6 +672,7 @@ public final class PromisesTest {
         due("pays(-1,3)", x.pays(-1, 3), -1);
         due("pays(0,3)", x.pays(0, 3), -2);
         due("pays(0,-1)", x.pays(0, -1), -2);
+        due("one for one", told("bid 0 a 1;bid 1 a 1;").pays(0, 1), 1);
         BundlesOfBids y = told(CHEAP);
         due("nobody is harmed", y.pays(1, 1), 0);
         due("nobody is harmed", y.pays(2, 1), 0);
@@ -871,6 +877,7 @@ public final class PromisesTest {
         due("of alike ones the least bits", z.least(0), 10);
         due("behind it", z.least(1), 1);
         due("least(2)", z.least(2), -1);
+        due("the most", told("bid 0 a 98;bid 1 a 1;").least(1), 99);
         due("least(-1)", z.least(-1), -1);
     }
 
@@ -961,6 +968,7 @@ public final class PromisesTest {
             "0:f=99;1:e=98;2:d=97;3:c=96;4:b=95;0:a=94/579");
         BundlesOfBids x = told("bid 0 a 50;bid 0 b 50;");
         prints(x, "0:a=50;0:b=50/100");
+        prints(told("bid 0 a 99;bid 0 b 99;"), "0:a=99;0:b=99/198");
         due("printed(most)", x.printed(MOST_INT), -9);
         due("printed(-2)", x.printed(-2), -4);
         due("printed(least)", x.printed(LEAST_INT), -4);
