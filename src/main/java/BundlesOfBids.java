@@ -412,6 +412,7 @@ public final class BundlesOfBids {
         for (int b = 0; b < sale.came; b++) {
             if (bitAt(winning, b) == 1) {
                 trial.takeFrom(sale);
+                // A price of 1 is tried as 0, which no bid may have but which is 1 less.
                 trial.setPrice(b, sale.priceOf(b) - 1);
                 out |= (1 << b) & ~winnersOf(trial);
             }
@@ -1280,6 +1281,7 @@ public final class BundlesOfBids {
             place = 0;
             fault = NONE;
             statements = 0;
+            // One statement is read even of no letters: an auction has at least one.
             readStatement();
             for (int i = 0; i < MOST_STATEMENTS && fault == NONE && place < size; i++) {
                 readStatement();
