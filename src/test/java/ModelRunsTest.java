@@ -2,14 +2,11 @@ import java.util.Random;
 
 /** Runs of chosen calls on the class and on the model, call by call alike; the choices are always the same. */
 public final class ModelRunsTest {
-    private static final int CALLS = 512;
+    // Behind the 512th call all is free: a text of 96 letters, and what it becomes, must still fit.
+    private static final int CALLS = 512 - 97;
     private static final Checks CHECKS = new Checks();
-    private static final String[] NAMES = {"letter", "auction", "bids", "turns", "price", "kind", "keep", "bid",
-        "bidder", "may", "winners", "rank", "item", "rival", "of", "pays", "blocks", "lifts", "group", "envy",
-        "gain", "without", "least", "tight", "missing", "mean", "printed", "whatIs", "row", "judge", "clear",
-        "lots", "image", "on", "count"};
-    private static final long[] SEEN_MOST = new long[NAMES.length];
-    private static final long[] SEEN_LEAST = new long[NAMES.length];
+    private static final long[] SEEN_MOST = new long[Calls.NAMES.length];
+    private static final long[] SEEN_LEAST = new long[Calls.NAMES.length];
 
     private final Random random;
     private final BundlesOfBids x = new BundlesOfBids();
@@ -54,7 +51,7 @@ public final class ModelRunsTest {
     }
 
     private static void sees(String name, long least, long greatest) {
-        int which = java.util.List.of(NAMES).indexOf(name);
+        int which = Calls.place(name);
         CHECKS.holds(name + " comes down to " + least, SEEN_LEAST[which] <= least);
         CHECKS.holds(name + " comes up to " + greatest, SEEN_MOST[which] >= greatest);
     }
@@ -67,7 +64,7 @@ public final class ModelRunsTest {
             } else if (choice < 30) {
                 change();
             } else {
-                String name = NAMES[7 + random.nextInt(NAMES.length - 7)];
+                String name = Calls.NAMES[7 + random.nextInt(Calls.NAMES.length - 7)];
                 ask(name.equals("on") && upTo(3) > 0 ? "lifts" : name);
             }
         }
@@ -89,7 +86,7 @@ public final class ModelRunsTest {
             "rank 9 1", "bid " + (many - 1) + " 5", "rival " + (many - 1) + " 2", "gain 2 0", "lifts 0 0", "tight 0 0",
             "least " + (many - 1) + " 0", "without " + (many - 1) + " 0", "group 7 4", "whatIs 2 1"};
         for (int told = upTo(1); told > 0; told--) {
-            compare("row", new int[] {x.pays(0, 1)});
+            compare("row", new int[] {model.pays(0, 1)});
         }
         for (String ask : twice) {
             String[] parts = ask.split(" ");
@@ -123,7 +120,7 @@ public final class ModelRunsTest {
     }
 
     private int anyBid() {
-        return about(Math.max(0, x.count(0) - 1));
+        return about(Math.max(0, model.count(0) - 1));
     }
 
     private int anySet() {
@@ -143,7 +140,7 @@ public final class ModelRunsTest {
     }
 
     private void change() {
-        if (x.count(0) < most / 2) {
+        if (model.count(0) < most / 2) {
             ask("bids");
             return;
         }
@@ -153,10 +150,10 @@ public final class ModelRunsTest {
 
     private void ask(String name) {
         int[] a = arguments(name);
-        if (name.equals("bids") && x.count(0) >= most && upTo(9) > 0) {
+        if (name.equals("bids") && model.count(0) >= most && upTo(9) > 0) {
             return;
         }
-        if (x.count(0) > 6 && upTo(9) > 0 && (name.equals("lots") || name.equals("least") || name.equals("whatIs"))) {
+        if (model.count(0) > 6 && upTo(9) > 0 && (name.equals("lots") || name.equals("least") || name.equals("whatIs"))) {
             return;
         }
         compare(name, a);
@@ -183,7 +180,7 @@ public final class ModelRunsTest {
             case "bidder":
                 return new int[] {about(4), about(4)};
             case "may":
-                return new int[] {about((1 << x.count(0)) - 1)};
+                return new int[] {about((1 << model.count(0)) - 1)};
             case "winners":
                 return new int[] {about(3)};
             case "rank":
@@ -193,7 +190,7 @@ public final class ModelRunsTest {
             case "rival":
                 return new int[] {anyBid(), about(2)};
             case "of":
-                return new int[] {about((1 << x.count(0)) - 1), about(1)};
+                return new int[] {about((1 << model.count(0)) - 1), about(1)};
             case "pays":
                 return new int[] {about(4), about(2)};
             case "blocks":
@@ -227,7 +224,7 @@ public final class ModelRunsTest {
 
     /** Mostly what is so, that a row may last. */
     private int anyTold() {
-        return upTo(3) == 0 ? about(99) : x.pays(Math.min(4, x.count(5)), 1 + upTo(1));
+        return upTo(3) == 0 ? about(99) : model.pays(Math.min(4, model.count(5)), 1 + upTo(1));
     }
 
     private String statements() {
@@ -256,12 +253,13 @@ public final class ModelRunsTest {
     }
 
     private String statement() {
-        int last = Math.max(0, x.count(0));
+        int last = Math.max(0, model.count(0));
         switch (random.nextInt(6)) {
             case 0:
                 return "off " + number(last);
             case 1:
-                return plain ? "price " + number(last) + " " + number(99) : "kind " + number(4) + " " + number(5) + " " + number(9);
+                return plain ? "price " + number(last) + " " + number(99)
+                    : "kind " + number(4) + " " + number(5) + " " + number(9);
             case 2:
                 return "keep " + (char) ('a' + upTo(upTo(9) == 0 ? 25 : 5)) + " " + number(9);
             case 3:
@@ -272,7 +270,7 @@ public final class ModelRunsTest {
                     items.append(upTo(2) == 0 ? String.valueOf(c) : "");
                 }
                 items.append(items.length() == 0 || upTo(15) == 0 ? String.valueOf((char) ('a' + upTo(6))) : "");
-                return x.count(0) >= most && upTo(3) > 0 ? "off 0" : "bid " + number(4) + " " + items + " " + number(30);
+                return model.count(0) >= most && upTo(3) > 0 ? "off 0" : "bid " + number(4) + " " + items + " " + number(30);
         }
     }
 
@@ -288,91 +286,11 @@ public final class ModelRunsTest {
         int p = a.length > 0 ? a[0] : 0;
         int q = a.length > 1 ? a[1] : 0;
         int r = a.length > 2 ? a[2] : 0;
-        long want = ofModel(name, p, q, r);
-        long got = ofClass(name, p, q, r);
-        int which = java.util.List.of(NAMES).indexOf(name);
+        long want = Calls.of(model, name, p, q, r);
+        long got = Calls.of(x, name, p, q, r);
+        int which = Calls.place(name);
         SEEN_MOST[which] = Math.max(SEEN_MOST[which], want);
         SEEN_LEAST[which] = Math.min(SEEN_LEAST[which], want);
         CHECKS.due("call " + calls + " " + name + java.util.Arrays.toString(a), got, want);
-    }
-
-    private long ofClass(String name, int p, int q, int r) {
-        switch (name) {
-            case "letter": return x.letter(p);
-            case "auction": return x.auction();
-            case "bids": return x.bids(p, q, r);
-            case "turns": return x.turns(p);
-            case "price": return x.price(p, q);
-            case "kind": return x.kind(p, q, r);
-            case "keep": return x.keep(p, q);
-            case "bid": return x.bid(p, q);
-            case "bidder": return x.bidder(p, q);
-            case "may": return x.may(p);
-            case "winners": return x.winners(p);
-            case "rank": return x.rank(p, q);
-            case "item": return x.item(p, q);
-            case "rival": return x.rival(p, q);
-            case "of": return x.of(p, q);
-            case "pays": return x.pays(p, q);
-            case "blocks": return x.blocks(p, q);
-            case "lifts": return x.lifts();
-            case "group": return x.group(p, q);
-            case "envy": return x.envy(p, q);
-            case "gain": return x.gain(p);
-            case "without": return x.without(p);
-            case "least": return x.least(p);
-            case "tight": return x.tight();
-            case "missing": return x.missing(p, q, r);
-            case "mean": return x.mean(p, q);
-            case "printed": return x.printed(p);
-            case "whatIs": return x.whatIs(p, q);
-            case "row": return x.row(p);
-            case "judge": return x.judge(p);
-            case "clear": return x.clear();
-            case "lots": return x.lots(p, q, r);
-            case "image": return x.image();
-            case "on": return x.on();
-            default: return x.count(p);
-        }
-    }
-
-    private long ofModel(String name, int p, int q, int r) {
-        switch (name) {
-            case "letter": return model.letter(p);
-            case "auction": return model.auction();
-            case "bids": return model.bids(p, q, r);
-            case "turns": return model.turns(p);
-            case "price": return model.price(p, q);
-            case "kind": return model.kind(p, q, r);
-            case "keep": return model.keep(p, q);
-            case "bid": return model.bid(p, q);
-            case "bidder": return model.bidder(p, q);
-            case "may": return model.may(p);
-            case "winners": return model.winners(p);
-            case "rank": return model.rank(p, q);
-            case "item": return model.item(p, q);
-            case "rival": return model.rival(p, q);
-            case "of": return model.of(p, q);
-            case "pays": return model.pays(p, q);
-            case "blocks": return model.blocks(p, q);
-            case "lifts": return model.lifts();
-            case "group": return model.group(p, q);
-            case "envy": return model.envy(p, q);
-            case "gain": return model.gain(p);
-            case "without": return model.without(p);
-            case "least": return model.least(p);
-            case "tight": return model.tight();
-            case "missing": return model.missing(p, q, r);
-            case "mean": return model.mean(p, q);
-            case "printed": return model.printed(p);
-            case "whatIs": return model.whatIs(p, q);
-            case "row": return model.row(p);
-            case "judge": return model.judge(p);
-            case "clear": return model.clear();
-            case "lots": return model.lots(p, q, r);
-            case "image": return model.image();
-            case "on": return model.on();
-            default: return model.count(p);
-        }
     }
 }

@@ -48,7 +48,6 @@ public final class PromisesTest {
         lots();
         imageAndOn();
         count();
-        refusalsChangeNothing();
         CHECKS.end("PromisesTest");
     }
 
@@ -58,23 +57,6 @@ public final class PromisesTest {
 
     private static void due(String call, long got, long want) {
         CHECKS.due(call, got, want);
-    }
-
-    private static void send(BundlesOfBids x, String text) {
-        for (int i = 0; i < text.length(); i++) {
-            x.letter(text.charAt(i));
-        }
-    }
-
-    private static int hear(BundlesOfBids x, String text) {
-        send(x, text);
-        return x.auction();
-    }
-
-    private static BundlesOfBids told(String text) {
-        BundlesOfBids x = new BundlesOfBids();
-        CHECKS.holds("'" + text + "' is an auction", hear(x, text) > 0);
-        return x;
     }
 
     private static void newObject() {
@@ -143,12 +125,12 @@ public final class PromisesTest {
     private static void auctionTexts() {
         part("3 auction");
         BundlesOfBids x = new BundlesOfBids();
-        due("one", hear(x, "bid 4 fa 99;"), 1);
+        due("one", Sales.hear(x, "bid 4 fa 99;"), 1);
         due("bid(0,0)", x.bid(0, 0), 4);
         due("bid(0,1)", x.bid(0, 1), 33);
         due("bid(0,2)", x.bid(0, 2), 99);
         due("bid(0,3)", x.bid(0, 3), 1);
-        due("all words", hear(x, "kind 4 5 9;keep c 7;price 00 5;off 0;bid 03 b 01;"), 5);
+        due("all words", Sales.hear(x, "kind 4 5 9;keep c 7;price 00 5;off 0;bid 03 b 01;"), 5);
         due("bidder(4,0)", x.bidder(4, 0), 5);
         due("bidder(4,1)", x.bidder(4, 1), 9);
         due("item(2,0)", x.item(2, 0), 7);
@@ -158,11 +140,11 @@ public final class PromisesTest {
         due("bid(1,2)", x.bid(1, 2), 1);
         due("count(0)", x.count(0), 2);
         due("count(6)", x.count(6), 0);
-        due("off again is on", hear(x, "off 0;"), 1);
+        due("off again is on", Sales.hear(x, "off 0;"), 1);
         due("bid(0,3)", x.bid(0, 3), 1);
-        due("off and on", hear(x, "off 1;off 1;"), 2);
+        due("off and on", Sales.hear(x, "off 1;off 1;"), 2);
         due("bid(1,3)", x.bid(1, 3), 1);
-        due("sixteen", hear(x, "off 1;off 1;off 1;off 1;off 1;off 1;off 1;off 1;"
+        due("sixteen", Sales.hear(x, "off 1;off 1;off 1;off 1;off 1;off 1;off 1;off 1;"
             + "off 1;off 1;off 1;off 1;off 1;off 1;off 1;off 0;"), 16);
         due("count(1)", x.count(1), 0);
         due("nothing", x.auction(), -1000);
@@ -174,7 +156,7 @@ public final class PromisesTest {
     private static void form(String text, int place) {
         BundlesOfBids x = new BundlesOfBids();
         x.bids(0, 1, 1);
-        due("'" + text + "'", hear(x, text), -1000 - place);
+        due("'" + text + "'", Sales.hear(x, text), -1000 - place);
         due("count(6) after '" + text + "'", x.count(6), 0);
     }
 
@@ -240,7 +222,7 @@ public final class PromisesTest {
     private static void sense(String text, int place) {
         BundlesOfBids x = new BundlesOfBids();
         x.bids(0, 1, 1);
-        due("'" + text + "'", hear(x, text), -2000 - place);
+        due("'" + text + "'", Sales.hear(x, text), -2000 - place);
         due("count(0) after '" + text + "'", x.count(0), 1);
         due("count(6) after '" + text + "'", x.count(6), 0);
     }
@@ -276,27 +258,27 @@ public final class PromisesTest {
         for (int i = 0; i < 8; i++) {
             x.bids(1, 1, 1);
         }
-        due("no room", hear(x, "bid 0 a 1;bid 0 b 2;bid 0 c 3;"), -2020);
+        due("no room", Sales.hear(x, "bid 0 a 1;bid 0 b 2;bid 0 c 3;"), -2020);
         due("count(0)", x.count(0), 8);
-        due("room for two", hear(x, "bid 0 a 1;bid 0 b 2;off 9;price 9 7;"), 4);
+        due("room for two", Sales.hear(x, "bid 0 a 1;bid 0 b 2;off 9;price 9 7;"), 4);
         due("count(0)", x.count(0), 10);
         due("count(1)", x.count(1), 511);
         due("bid(9,2)", x.bid(9, 2), 7);
-        due("no room", hear(x, "bid 0 a 1;"), -2000);
+        due("no room", Sales.hear(x, "bid 0 a 1;"), -2000);
     }
 
     private static void auctionIsAllOrNothing() {
         part("3 all or nothing");
         BundlesOfBids x = new BundlesOfBids();
-        due("fault", hear(x, "bid 0 a 5;keep b 3;kind 1 2 3;off 0;price 0 9;off 9;"), -2046);
+        due("fault", Sales.hear(x, "bid 0 a 5;keep b 3;kind 1 2 3;off 0;price 0 9;off 9;"), -2046);
         due("count(0)", x.count(0), 0);
         due("count(2)", x.count(2), 0);
         due("bidder(1,0)", x.bidder(1, 0), 0);
-        due("form is before sense", hear(x, "off 9;bid 0 a 1"), -1015);
+        due("form is before sense", Sales.hear(x, "off 9;bid 0 a 1"), -1015);
         for (int what = 11; what <= 16; what++) {
             due("count(" + what + ")", x.count(what), 0);
         }
-        due("the same without what is wrong", hear(x, "bid 0 a 5;keep b 3;kind 1 2 3;off 0;price 0 9;"), 5);
+        due("the same without what is wrong", Sales.hear(x, "bid 0 a 5;keep b 3;kind 1 2 3;off 0;price 0 9;"), 5);
         due("count(0)", x.count(0), 1);
         due("count(1)", x.count(1), 0);
         due("count(2)", x.count(2), 3);
@@ -338,7 +320,7 @@ public final class PromisesTest {
 
     private static void turns() {
         part("5 turns");
-        BundlesOfBids x = told(FIVE);
+        BundlesOfBids x = Sales.told(FIVE);
         due("turns(0)", x.turns(0), 0);
         due("bid(0,3)", x.bid(0, 3), 0);
         due("bid(0,5)", x.bid(0, 5), -9);
@@ -357,7 +339,7 @@ public final class PromisesTest {
 
     private static void price() {
         part("6 price");
-        BundlesOfBids x = told(FIVE);
+        BundlesOfBids x = Sales.told(FIVE);
         due("price(3,99)", x.price(3, 99), 14);
         due("price(3,1)", x.price(3, 1), 99);
         due("price(3,20)", x.price(3, 20), 1);
@@ -389,7 +371,7 @@ public final class PromisesTest {
 
     private static void kindsSayWhatMayWin() {
         part("7 kinds");
-        BundlesOfBids x = told("bid 0 a 10;bid 0 b 11;bid 0 cd 12;bid 0 e 13;");
+        BundlesOfBids x = Sales.told("bid 0 a 10;bid 0 b 11;bid 0 cd 12;bid 0 e 13;");
         due("any", x.winners(0), 15);
         x.kind(0, 1, 0);
         due("one", x.winners(0), 8);
@@ -443,7 +425,7 @@ public final class PromisesTest {
 
     private static void keep() {
         part("8 keep");
-        BundlesOfBids x = told(FIVE);
+        BundlesOfBids x = Sales.told(FIVE);
         due("keep(0,9)", x.keep(0, 9), 0);
         due("keep(0,4)", x.keep(0, 4), 9);
         due("keep(5,7)", x.keep(5, 7), 0);
@@ -462,7 +444,7 @@ public final class PromisesTest {
 
     private static void bid() {
         part("9 bid");
-        BundlesOfBids x = told(FIVE);
+        BundlesOfBids x = Sales.told(FIVE);
         int[][] dues = {{0, 3, 20, 1, 1, 0}, {1, 1, 9, 1, 0, 1}, {2, 2, 8, 1, 0, 3}, {3, 6, 14, 1, 0, 4},
             {1, 4, 9, 1, 1, 2}};
         for (int b = 0; b < dues.length; b++) {
@@ -478,7 +460,7 @@ public final class PromisesTest {
         x.turns(1);
         due("off has no place", x.bid(1, 5), -9);
         due("places close up", x.bid(4, 5), 1);
-        BundlesOfBids y = told("bid 0 abc 10;bid 0 ab 7;bid 0 abcdef 20;bid 0 a 3;");
+        BundlesOfBids y = Sales.told("bid 0 abc 10;bid 0 ab 7;bid 0 abcdef 20;bid 0 a 3;");
         due("3 and a third, first of alike ones", y.bid(0, 5), 1);
         due("3 and a half", y.bid(1, 5), 0);
         due("3 and a third", y.bid(2, 5), 2);
@@ -487,7 +469,7 @@ public final class PromisesTest {
 
     private static void bidder() {
         part("10 bidder");
-        BundlesOfBids x = told(FIVE);
+        BundlesOfBids x = Sales.told(FIVE);
         x.kind(1, 2, 7);
         int[][] dues = {{0, 0, 1, 20, 17}, {2, 7, 18, 9, 0}, {0, 0, 4, 0, 0}, {0, 0, 8, 0, 0}, {0, 0, 0, 0, 0}};
         for (int b = 0; b < 5; b++) {
@@ -501,13 +483,13 @@ public final class PromisesTest {
         due("bidder(-1,5)", x.bidder(-1, 5), -1);
         due("bidder(0,5)", x.bidder(0, 5), -2);
         due("bidder(0,-1)", x.bidder(0, -1), -2);
-        BundlesOfBids y = told("bid 0 a 9;keep a 4;");
+        BundlesOfBids y = Sales.told("bid 0 a 9;keep a 4;");
         due("harm is what the seller keeps it for", y.bidder(0, 4), 4);
     }
 
     private static void may() {
         part("11 may");
-        BundlesOfBids x = told(FIVE);
+        BundlesOfBids x = Sales.told(FIVE);
         due("none", x.may(0), 1);
         due("0 and 4", x.may(17), 1);
         due("an item in common", x.may(3), 0);
@@ -530,7 +512,7 @@ public final class PromisesTest {
 
     private static void winners() {
         part("12 winners");
-        BundlesOfBids x = told(FIVE);
+        BundlesOfBids x = Sales.told(FIVE);
         due("winners(0)", x.winners(0), 17);
         due("winners(1)", x.winners(1), 29);
         due("winners(2)", x.winners(2), 7);
@@ -538,7 +520,7 @@ public final class PromisesTest {
         due("winners(4)", x.winners(4), -2);
         due("winners(-1)", x.winners(-1), -2);
         due("count(12)", x.count(12), 2);
-        BundlesOfBids y = told("bid 0 a 99;bid 0 b 99;bid 1 c 99;bid 2 d 99;bid 3 e 99;bid 4 f 99;");
+        BundlesOfBids y = Sales.told("bid 0 a 99;bid 0 b 99;bid 1 c 99;bid 2 d 99;bid 3 e 99;bid 4 f 99;");
         due("the most worth", y.winners(1), 594);
         due("of all", y.winners(0), 63);
         due("all items", y.winners(2), 63);
@@ -546,30 +528,30 @@ public final class PromisesTest {
 
     private static void winnersTies() {
         part("12 ties");
-        BundlesOfBids x = told("bid 0 a 10;bid 1 b 10;bid 2 ab 20;");
+        BundlesOfBids x = Sales.told("bid 0 a 10;bid 1 b 10;bid 2 ab 20;");
         due("least bids", x.winners(0), 4);
-        BundlesOfBids y = told("bid 0 b 10;bid 1 ab 20;bid 2 a 10;bid 3 ab 20;");
+        BundlesOfBids y = Sales.told("bid 0 b 10;bid 1 ab 20;bid 2 a 10;bid 3 ab 20;");
         due("least bits", y.winners(0), 2);
-        BundlesOfBids z = told("bid 0 a 5;keep a 5;");
+        BundlesOfBids z = Sales.told("bid 0 a 5;keep a 5;");
         due("kept", z.winners(0), 0);
         due("kept", z.item(0, 1), -9);
     }
 
     private static void looked() {
         part("12 looked");
-        BundlesOfBids x = told("bid 0 a 5;");
+        BundlesOfBids x = Sales.told("bid 0 a 5;");
         due("root, with, end; without is below", x.winners(3), 3);
         x.keep(0, 5);
         due("without it is alike: looked at to its end", x.winners(3), 3);
         x.keep(0, 9);
         due("with it is below", x.winners(3), 3);
-        BundlesOfBids y = told("bid 0 a 5;bid 1 b 5;");
+        BundlesOfBids y = Sales.told("bid 0 a 5;bid 1 b 5;");
         due("two", y.winners(3), 5);
         y.turns(0);
         due("off ones are not searched", y.winners(3), 3);
         y.turns(1);
         due("none", y.winners(3), 1);
-        BundlesOfBids z = told("bid 0 abc 10;bid 1 a 3;");
+        BundlesOfBids z = Sales.told("bid 0 abc 10;bid 1 a 3;");
         due("a third of a price", z.winners(3), 4);
         BundlesOfBids ten = new BundlesOfBids();
         for (int i = 0; i < 10; i++) {
@@ -580,7 +562,7 @@ public final class PromisesTest {
 
     private static void rank() {
         part("13 rank");
-        BundlesOfBids x = told(FIVE);
+        BundlesOfBids x = Sales.told(FIVE);
         int[] bits = {17, 22, 10, 1, 18, 6, 20, 8, 2, 16, 4, 0};
         int[] worths = {29, 26, 23, 20, 18, 17, 17, 14, 9, 9, 8, 0};
         for (int k = 0; k < bits.length; k++) {
@@ -595,7 +577,7 @@ public final class PromisesTest {
         due("rank(least,0)", x.rank(LEAST_INT, 0), -4);
         due("rank(0,2)", x.rank(0, 2), -2);
         due("rank(0,-1)", x.rank(0, -1), -2);
-        BundlesOfBids y = told("bid 0 b 10;bid 1 a 10;bid 2 ab 20;");
+        BundlesOfBids y = Sales.told("bid 0 b 10;bid 1 a 10;bid 2 ab 20;");
         due("least bids go ahead", y.rank(0, 0), 4);
         due("more bids behind", y.rank(1, 0), 3);
         due("least bits go ahead", y.rank(2, 0), 1);
@@ -604,7 +586,7 @@ public final class PromisesTest {
 
     private static void item() {
         part("14 item");
-        BundlesOfBids x = told(FIVE);
+        BundlesOfBids x = Sales.told(FIVE);
         x.keep(3, 6);
         int[][] dues = {{0, 0, 12, 2}, {0, 0, 11, 3}, {0, 4, 9, 2}, {6, -9, 6, 0}, {0, -9, 0, 0}, {0, -9, 0, 0}};
         for (int i = 0; i < 6; i++) {
@@ -622,7 +604,7 @@ public final class PromisesTest {
 
     private static void rival() {
         part("15 rival");
-        BundlesOfBids x = told(FIVE);
+        BundlesOfBids x = Sales.told(FIVE);
         int[][] dues = {{14, 0, 0}, {1, 1, 11}, {9, 1, 12}, {21, 17, 15}, {8, 0, 0}};
         for (int b = 0; b < 5; b++) {
             for (int what = 0; what < 3; what++) {
@@ -643,7 +625,7 @@ public final class PromisesTest {
 
     private static void of() {
         part("16 of");
-        BundlesOfBids x = told(FIVE);
+        BundlesOfBids x = Sales.told(FIVE);
         due("of(31,0)", x.of(31, 0), 17);
         due("of(30,0)", x.of(30, 0), 22);
         due("of(30,1)", x.of(30, 1), 26);
@@ -661,7 +643,7 @@ public final class PromisesTest {
 
     private static void pays() {
         part("17 pays");
-        BundlesOfBids x = told(FIVE);
+        BundlesOfBids x = Sales.told(FIVE);
         int[][] dues = {{20, 17, 17}, {9, 0, 0}, {0, 0, 0}, {0, 0, 0}, {0, 0, 0}};
         for (int b = 0; b < 5; b++) {
             for (int how = 0; how < 3; how++) {
@@ -672,14 +654,14 @@ public final class PromisesTest {
         due("pays(-1,3)", x.pays(-1, 3), -1);
         due("pays(0,3)", x.pays(0, 3), -2);
         due("pays(0,-1)", x.pays(0, -1), -2);
-        due("one for one", told("bid 0 a 1;bid 1 a 1;").pays(0, 1), 1);
-        BundlesOfBids y = told(CHEAP);
+        due("one for one", Sales.told("bid 0 a 1;bid 1 a 1;").pays(0, 1), 1);
+        BundlesOfBids y = Sales.told(CHEAP);
         due("nobody is harmed", y.pays(1, 1), 0);
         due("nobody is harmed", y.pays(2, 1), 0);
         due("lifted", y.pays(1, 2), 10);
         due("not lifted", y.pays(2, 2), 0);
         due("nothing won", y.pays(0, 2), 0);
-        BundlesOfBids z = told("bid 0 abc 15;bid 1 a 6;bid 2 b 6;bid 3 c 6;");
+        BundlesOfBids z = Sales.told("bid 0 abc 15;bid 1 a 6;bid 2 b 6;bid 3 c 6;");
         due("by harm", z.pays(1, 1), 3);
         due("up to what it won", z.pays(1, 2), 6);
         due("one behind the other", z.pays(2, 2), 6);
@@ -688,7 +670,7 @@ public final class PromisesTest {
 
     private static void blocksAndLifts() {
         part("18, 19 blocks, lifts");
-        BundlesOfBids x = told(CHEAP);
+        BundlesOfBids x = Sales.told(CHEAP);
         due("as bid nobody", x.blocks(0, 0), -9);
         due("as bid by nothing", x.blocks(0, 1), 0);
         due("by harm bidder 0", x.blocks(1, 0), 1);
@@ -704,14 +686,14 @@ public final class PromisesTest {
         x.keep(0, 2);
         x.keep(5, 9);
         due("what stays unsold is no gain", x.blocks(1, 1), 8);
-        BundlesOfBids y = told(FIVE);
+        BundlesOfBids y = Sales.told(FIVE);
         due("nobody", y.blocks(1, 0), -9);
         due("lifts()", y.lifts(), 0);
-        BundlesOfBids z = told("bid 3 ab 10;bid 1 a 10;bid 2 b 10;bid 4 ab 10;");
+        BundlesOfBids z = Sales.told("bid 3 ab 10;bid 1 a 10;bid 2 b 10;bid 4 ab 10;");
         due("of several the least", z.blocks(1, 0), 8);
         z.turns(0);
         due("bidder 4", z.blocks(1, 0), 16);
-        BundlesOfBids w = told("bid 0 a 10;bid 1 b 10;bid 2 c 10;bid 3 d 10;bid 4 ab 10;bid 4 cd 10;");
+        BundlesOfBids w = Sales.told("bid 0 a 10;bid 1 b 10;bid 2 c 10;bid 3 d 10;bid 4 ab 10;bid 4 cd 10;");
         // First bidder 4 blocks by 20, which 0 and 1 pay; then 0, 1 and 4 by 10, which 2 pays.
         due("bidder 4", w.blocks(1, 0), 16);
         due("by most", w.blocks(1, 1), 20);
@@ -727,7 +709,7 @@ public final class PromisesTest {
 
     private static void group() {
         part("20 group");
-        BundlesOfBids x = told(FIVE);
+        BundlesOfBids x = Sales.told(FIVE);
         due("group(0,0)", x.group(0, 0), 0);
         due("group(0,1)", x.group(0, 1), 0);
         due("group(0,3)", x.group(0, 3), 0);
@@ -754,9 +736,9 @@ public final class PromisesTest {
 
     private static void envy() {
         part("21 envy");
-        BundlesOfBids x = told(CHEAP);
+        BundlesOfBids x = Sales.told(CHEAP);
         due("0 for 1", x.envy(0, 1), 0);
-        BundlesOfBids y = told("bid 0 a 10;bid 0 b 4;bid 1 a 7;bid 2 b 9;bid 2 c 1;");
+        BundlesOfBids y = Sales.told("bid 0 a 10;bid 0 b 4;bid 1 a 7;bid 2 b 9;bid 2 c 1;");
         // Winners: bid 0 (10), bid 3 (9), bid 4 (1); bidder 0 pays 7, bidder 2 pays 4.
         due("winners", y.winners(0), 25);
         due("0 pays", y.pays(0, 1), 7);
@@ -765,7 +747,7 @@ public final class PromisesTest {
         due("1 for 0: 7 less 7", y.envy(1, 0), 0);
         due("2 for 0", y.envy(2, 0), 0);
         // The bids of a purse keep it from winning what it would have liked better.
-        BundlesOfBids z = told("kind 0 1 0;bid 0 a 9;bid 0 bc 10;bid 1 bc 12;bid 2 a 6;");
+        BundlesOfBids z = Sales.told("kind 0 1 0;bid 0 a 9;bid 0 bc 10;bid 1 bc 12;bid 2 a 6;");
         due("winners", z.winners(0), 5);
         due("0 pays", z.pays(0, 1), 6);
         due("1 pays", z.pays(1, 1), 7);
@@ -774,7 +756,7 @@ public final class PromisesTest {
         due("1 pays", z.pays(1, 1), 8);
         due("0 for 1: 11 less 8 less 3", z.envy(0, 1), 0);
         // Bidder 1 wins b and c and pays less than bidder 0 would have given for them.
-        BundlesOfBids w = told("kind 0 4 1;bid 0 b 5;bid 0 bc 9;bid 1 b 8;bid 1 c 6;");
+        BundlesOfBids w = Sales.told("kind 0 4 1;bid 0 b 5;bid 0 bc 9;bid 1 b 8;bid 1 c 6;");
         due("winners", w.winners(0), 12);
         due("1 pays", w.pays(1, 1), 5);
         due("a small may not have both", w.envy(0, 1), 0);
@@ -792,7 +774,7 @@ public final class PromisesTest {
 
     private static void proudEnvy() {
         // Bidder 0 may have one of c and a: with c outbid nearly it takes a.
-        BundlesOfBids x = told("kind 0 1 0;bid 0 c 20;bid 0 a 9;bid 1 a 5;bid 1 b 5;bid 2 c 19;");
+        BundlesOfBids x = Sales.told("kind 0 1 0;bid 0 c 20;bid 0 a 9;bid 1 a 5;bid 1 b 5;bid 2 c 19;");
         due("worth", x.winners(1), 33);
         due("winners are 1, 3, 4", x.winners(0), 26);
         x.price(4, 12);
@@ -808,12 +790,12 @@ public final class PromisesTest {
         x.bids(0, 2, 9);
         due("0 may still have one", x.envy(0, 1), 0);
         // A PROUD wins nothing of one bid alone: bidder 1 pays nothing for what 0 wants in two.
-        BundlesOfBids y = told("kind 0 5 2;bid 0 a 4;bid 0 b 4;bid 1 ab 9;bid 2 a 6;");
+        BundlesOfBids y = Sales.told("kind 0 5 2;bid 0 a 4;bid 0 b 4;bid 1 ab 9;bid 2 a 6;");
         due("winners", y.winners(0), 4);
         due("1 pays", y.pays(1, 1), 8);
         due("0 for 1", y.envy(0, 1), 0);
         // The purse lets bidder 0 have a or b. Without 1 it would have a: so 1 pays little for it.
-        BundlesOfBids z = told("kind 0 3 1;bid 0 a 10;bid 0 b 10;bid 1 a 12;bid 1 b 3;bid 2 b 2;");
+        BundlesOfBids z = Sales.told("kind 0 3 1;bid 0 a 10;bid 0 b 10;bid 1 a 12;bid 1 b 3;bid 2 b 2;");
         due("winners", z.winners(0), 6);
         due("0 pays 3", z.pays(0, 1), 3);
         due("1 pays 2", z.pays(1, 1), 2);
@@ -825,13 +807,13 @@ public final class PromisesTest {
 
     private static void gain() {
         part("22 gain");
-        BundlesOfBids x = told(FIVE);
+        BundlesOfBids x = Sales.told(FIVE);
         due("gain(0)", x.gain(0), 0);
         due("gain(1)", x.gain(1), -3);
-        BundlesOfBids y = told("bid 0 a 30;bid 0 b 30;bid 0 ab 40;bid 1 ab 50;");
+        BundlesOfBids y = Sales.told("bid 0 a 30;bid 0 b 30;bid 0 ab 40;bid 1 ab 50;");
         due("gain(0)", y.gain(0), 10);
         due("gain(1)", y.gain(1), 0);
-        BundlesOfBids z = told("kind 0 1 0;bid 0 a 10;bid 0 b 8;bid 1 ab 12;");
+        BundlesOfBids z = Sales.told("kind 0 1 0;bid 0 a 10;bid 0 b 8;bid 1 ab 12;");
         due("a one loses", z.winners(0), 4);
         due("its shills win: 10 less 4 and 8 less 2", z.gain(0), 12);
         due("the kind stays", z.bidder(0, 0), 1);
@@ -842,7 +824,7 @@ public final class PromisesTest {
 
     private static void without() {
         part("23 without");
-        BundlesOfBids x = told(FIVE);
+        BundlesOfBids x = Sales.told(FIVE);
         int[] dues = {26, 29, 29, 29, 23};
         for (int b = 0; b < 5; b++) {
             due("without(" + b + ")", x.without(b), dues[b]);
@@ -857,7 +839,7 @@ public final class PromisesTest {
 
     private static void least() {
         part("24 least");
-        BundlesOfBids x = told(FIVE);
+        BundlesOfBids x = Sales.told(FIVE);
         int[] dues = {17, 13, 12, 20, 4};
         for (int b = 0; b < 5; b++) {
             due("least(" + b + ")", x.least(b), dues[b]);
@@ -866,32 +848,32 @@ public final class PromisesTest {
         due("on then", x.least(0), 17);
         due("but off still", x.bid(0, 3), 0);
         due("its price stays", x.bid(0, 2), 20);
-        BundlesOfBids y = told("bid 0 a 99;bid 1 a 98;kind 2 1 0;bid 2 ab 5;kind 3 2 0;bid 3 c 9;");
+        BundlesOfBids y = Sales.told("bid 0 a 99;bid 1 a 98;kind 2 1 0;bid 2 ab 5;kind 3 2 0;bid 3 c 9;");
         due("even the most is too little against less bits", y.least(1), -9);
         due("alike with less bits", y.least(0), 98);
         due("one bid, more items", y.least(2), -9);
         due("may win none", y.least(3), -9);
-        BundlesOfBids z = told("kind 0 3 2;bid 0 a 50;bid 1 a 10;");
+        BundlesOfBids z = Sales.told("kind 0 3 2;bid 0 a 50;bid 1 a 10;");
         due("within the purse", z.least(0), 10);
         z.kind(0, 3, 1);
         due("of alike ones the least bits", z.least(0), 10);
         due("behind it", z.least(1), 1);
         due("least(2)", z.least(2), -1);
-        due("the most", told("bid 0 a 98;bid 1 a 1;").least(1), 99);
+        due("the most", Sales.told("bid 0 a 98;bid 1 a 1;").least(1), 99);
         due("least(-1)", z.least(-1), -1);
     }
 
     private static void tight() {
         part("25 tight");
-        BundlesOfBids x = told(CHEAP);
+        BundlesOfBids x = Sales.told(CHEAP);
         due("neither", x.tight(), 0);
         x.price(0, 18);
         due("19 is above 18", x.tight(), 0);
         x.price(0, 19);
         due("19 with less bids is not below", x.tight(), 6);
-        BundlesOfBids y = told("bid 0 a 9;bid 1 a 9;");
+        BundlesOfBids y = Sales.told("bid 0 a 9;bid 1 a 9;");
         due("as much, but less bits", y.tight(), 1);
-        BundlesOfBids z = told("bid 0 a 1;");
+        BundlesOfBids z = Sales.told("bid 0 a 1;");
         due("nothing is as good as a bid of nothing", z.tight(), 1);
         due("its price stays", z.bid(0, 2), 1);
         due("none", new BundlesOfBids().tight(), 0);
@@ -904,10 +886,10 @@ public final class PromisesTest {
 
     private static void missing() {
         part("26 missing");
-        BundlesOfBids x = told(FIVE);
+        BundlesOfBids x = Sales.told(FIVE);
         fraction("bid 0", x.missing(0, 3, 0), x.missing(0, 3, 1), 46, 81);
         fraction("bid 3", x.missing(3, 3, 0), x.missing(3, 3, 1), 2, 9);
-        BundlesOfBids y = told("bid 0 a 5;bid 1 a 4;");
+        BundlesOfBids y = Sales.told("bid 0 a 5;bid 1 a 4;");
         fraction("the first comes", y.missing(0, 2, 0), y.missing(0, 2, 1), 1, 2);
         fraction("the other one doesn't", y.missing(1, 2, 0), y.missing(1, 2, 1), 1, 4);
         fraction("1 in 20", y.missing(1, 20, 0), y.missing(1, 20, 1), 19, 400);
@@ -935,11 +917,11 @@ public final class PromisesTest {
 
     private static void mean() {
         part("27 mean");
-        BundlesOfBids x = told(FIVE);
+        BundlesOfBids x = Sales.told(FIVE);
         fraction("as bid", x.mean(0, 0), x.mean(0, 1), 29, 2);
         fraction("by harm", x.mean(1, 0), x.mean(1, 1), 17, 2);
         fraction("lifted", x.mean(2, 0), x.mean(2, 1), 17, 2);
-        BundlesOfBids y = told(CHEAP);
+        BundlesOfBids y = Sales.told(CHEAP);
         fraction("as bid", y.mean(0, 0), y.mean(0, 1), 10, 1);
         fraction("nothing", y.mean(1, 0), y.mean(1, 1), 0, 1);
         fraction("lifted", y.mean(2, 0), y.mean(2, 1), 5, 1);
@@ -961,14 +943,14 @@ public final class PromisesTest {
     private static void printed() {
         part("28 printed");
         prints(new BundlesOfBids(), "/0");
-        prints(told(FIVE), "0:ab=20;1:c=9/29");
-        prints(told("keep a 9;keep b 9;bid 0 a 8;"), "/18");
-        prints(told("bid 4 fca 7;"), "4:acf=7/7");
-        prints(told("bid 0 f 99;bid 1 e 98;bid 2 d 97;bid 3 c 96;bid 4 b 95;bid 0 a 94;"),
+        prints(Sales.told(FIVE), "0:ab=20;1:c=9/29");
+        prints(Sales.told("keep a 9;keep b 9;bid 0 a 8;"), "/18");
+        prints(Sales.told("bid 4 fca 7;"), "4:acf=7/7");
+        prints(Sales.told("bid 0 f 99;bid 1 e 98;bid 2 d 97;bid 3 c 96;bid 4 b 95;bid 0 a 94;"),
             "0:f=99;1:e=98;2:d=97;3:c=96;4:b=95;0:a=94/579");
-        BundlesOfBids x = told("bid 0 a 50;bid 0 b 50;");
+        BundlesOfBids x = Sales.told("bid 0 a 50;bid 0 b 50;");
         prints(x, "0:a=50;0:b=50/100");
-        prints(told("bid 0 a 99;bid 0 b 99;"), "0:a=99;0:b=99/198");
+        prints(Sales.told("bid 0 a 99;bid 0 b 99;"), "0:a=99;0:b=99/198");
         due("printed(most)", x.printed(MOST_INT), -9);
         due("printed(-2)", x.printed(-2), -4);
         due("printed(least)", x.printed(LEAST_INT), -4);
@@ -978,7 +960,7 @@ public final class PromisesTest {
     private static void whatIs() {
         part("29 whatIs");
         // As ANY bidder 0 wins both and pays 5 and 3; as a ONE it wins b alone and pays 3.
-        BundlesOfBids x = told("bid 0 a 9;bid 0 b 8;bid 1 a 5;bid 2 b 3;");
+        BundlesOfBids x = Sales.told("bid 0 a 9;bid 0 b 8;bid 1 a 5;bid 2 b 3;");
         due("of none all is so", x.whatIs(0, 0), 63);
         due("of none all is so", x.whatIs(0, 1), 1023);
         x.row(8);
@@ -1006,7 +988,7 @@ public final class PromisesTest {
 
     private static void rowJudgeClear() {
         part("30, 31, 32 row, judge, clear");
-        BundlesOfBids x = told(FIVE);
+        BundlesOfBids x = Sales.told(FIVE);
         due("row(-1)", x.row(-1), -4);
         due("row(100)", x.row(100), -6);
         due("row(20)", x.row(20), 1);
@@ -1036,7 +1018,7 @@ public final class PromisesTest {
         x.row(1);
         due("the first that is not so", x.judge(1), 1);
         due("the row has none", x.count(5), 0);
-        BundlesOfBids y = told(CHEAP);
+        BundlesOfBids y = Sales.told(CHEAP);
         y.row(0);
         y.row(10);
         y.row(0);
@@ -1049,7 +1031,7 @@ public final class PromisesTest {
 
     private static void lots() {
         part("33 lots");
-        BundlesOfBids x = told("bid 0 a 5;");
+        BundlesOfBids x = Sales.told("bid 0 a 5;");
         // z = 1 becomes 1015568748: by 256, cut, 3967065; modulo 99 is 36. Then 1586005467: 6195333; 12.
         due("one", x.lots(1, 1, 0), 37);
         due("two", x.lots(2, 1, 0), 37 + 13);
@@ -1062,9 +1044,9 @@ public final class PromisesTest {
         x.bids(1, 1, 1);
         due("the second draw is its own", x.lots(1, 1, 0), 13);
         // z = -1 becomes 1012239698: 3954061; modulo 99 is 1.
-        due("a seed below 0", told("bid 0 a 5;").lots(1, -1, 0), 2);
+        due("a seed below 0", Sales.told("bid 0 a 5;").lots(1, -1, 0), 2);
         // z = 3 becomes 1018897798: 3980069; 71. Then -2087155283 with the sign's bit off 60328365: 235657; 37.
-        due("a draw below 0", told("bid 0 a 5;").lots(2, 3, 0), drawnTwice(3));
+        due("a draw below 0", Sales.told("bid 0 a 5;").lots(2, 3, 0), drawnTwice(3));
         due("lots(0,1,2)", x.lots(0, 1, 2), -4);
         due("lots(21,1,2)", x.lots(21, 1, 2), -6);
         due("lots(1,1,2)", x.lots(1, 1, 2), -2);
@@ -1085,7 +1067,7 @@ public final class PromisesTest {
 
     private static void imageAndOn() {
         part("34, 35 image, on");
-        BundlesOfBids x = told(FIVE);
+        BundlesOfBids x = Sales.told(FIVE);
         due("none yet", x.on(), -3);
         x.keep(1, 3);
         x.kind(2, 5, 4);
@@ -1130,7 +1112,7 @@ public final class PromisesTest {
 
     private static void count() {
         part("36 count");
-        BundlesOfBids x = told(FIVE);
+        BundlesOfBids x = Sales.told(FIVE);
         x.turns(1);
         x.keep(4, 2);
         x.keep(5, 9);
@@ -1156,105 +1138,5 @@ public final class PromisesTest {
         due("BELOW", x.count(14), 1);
         due("there is no -5", x.count(15), 0);
         due("ROOM", x.count(16), 1);
-    }
-
-    private static long[] all(BundlesOfBids x) {
-        java.util.ArrayList<Long> seen = new java.util.ArrayList<>();
-        for (int what = 0; what <= 6; what++) {
-            seen.add((long) x.count(what));
-        }
-        for (int b = 0; b < x.count(0); b++) {
-            for (int what = 0; what < 6; what++) {
-                seen.add((long) x.bid(b, what));
-            }
-        }
-        for (int b = 0; b < 5; b++) {
-            for (int what = 0; what < 5; what++) {
-                seen.add((long) x.bidder(b, what));
-            }
-            seen.add((long) x.whatIs(b, 0));
-        }
-        for (int i = 0; i < 6; i++) {
-            seen.add((long) x.item(i, 0));
-        }
-        for (int what = 0; what < 4; what++) {
-            seen.add((long) x.winners(what));
-        }
-        return seen.stream().mapToLong(Long::longValue).toArray();
-    }
-
-    private static void refusalsChangeNothing() {
-        part("refusals change nothing");
-        BundlesOfBids x = told(FIVE + "keep d 3;kind 1 2 1;off 2;");
-        x.row(17);
-        send(x, "off 2;");
-        long[] before = all(x);
-        int refused = 0;
-        int[] odd = {LEAST_INT, -7, -1, 101, 300, 1 << 20, MOST_INT};
-        for (int v : odd) {
-            x.bids(0, v, 5);
-            x.bids(v, 1, 5);
-            x.bids(0, 1, v);
-            x.turns(v);
-            x.price(v, 5);
-            x.price(1, v);
-            x.kind(v, 1, 1);
-            x.kind(1, v, 1);
-            x.kind(1, 1, v);
-            x.keep(v, 1);
-            x.keep(1, v);
-            x.bid(v, 0);
-            x.bid(1, v);
-            x.bidder(v, 0);
-            x.bidder(1, v);
-            x.may(v);
-            x.winners(v);
-            x.rank(0, v);
-            x.item(v, 0);
-            x.item(0, v);
-            x.rival(v, 0);
-            x.rival(0, v);
-            x.of(v, 0);
-            x.of(1, v);
-            x.pays(v, 0);
-            x.pays(0, v);
-            x.blocks(v, 0);
-            x.blocks(0, v);
-            x.group(v, 0);
-            x.group(0, v);
-            x.envy(v, 0);
-            x.envy(0, v);
-            x.gain(v);
-            x.without(v);
-            x.least(v);
-            x.missing(v, 2, 0);
-            x.missing(0, v, 0);
-            x.missing(0, 2, v);
-            x.mean(v, 0);
-            x.mean(0, v);
-            x.whatIs(v, 0);
-            x.whatIs(0, v);
-            x.row(v);
-            x.judge(v);
-            x.lots(v, 1, 0);
-            x.lots(1, 1, v);
-            refused += 46;
-        }
-        x.letter(-1);
-        x.letter(256);
-        x.rank(-1, 0);
-        x.printed(-2);
-        x.on();
-        refused += 5;
-        int counted = 0;
-        for (int what = 11; what <= 16; what++) {
-            counted += x.count(what);
-        }
-        due("refusals", counted, refused);
-        long[] after = all(x);
-        CHECKS.holds("all is as it was", java.util.Arrays.equals(before, after));
-        due("letters are as they were", x.auction(), 1);
-        due("bid(2,3)", x.bid(2, 3), 1);
-        due("the row is as it was", x.clear(), 1);
     }
 }
