@@ -23,6 +23,20 @@ final class Checks {
         due(what, so ? 1 : 0, 1);
     }
 
+    void fraction(String call, long above, long below, long wantAbove, long wantBelow) {
+        due(call + " above the line", above, wantAbove);
+        due(call + " below the line", below, wantBelow);
+    }
+
+    void prints(BundlesOfBids x, String want) {
+        due("printed(-1) of " + want, x.printed(-1), want.length());
+        for (int i = 0; i < want.length(); i++) {
+            due("printed(" + i + ") of " + want, x.printed(i), want.charAt(i));
+        }
+        due("printed behind " + want, x.printed(want.length()), -9);
+        due("printed far behind " + want, x.printed(Integer.MAX_VALUE), -9);
+    }
+
     boolean isClean() {
         return wrong == 0;
     }

@@ -65,11 +65,6 @@ public final class EdgesTest {
         CHECKS.due(call, got, want);
     }
 
-    private static void fraction(String call, long above, long below, long wantAbove, long wantBelow) {
-        due(call + " above", above, wantAbove);
-        due(call + " below", below, wantBelow);
-    }
-
     private static void nothingAtFirst() {
         part("Promise 1: no BIDS; all BIDDERS ANY, nothing is kept back");
         BundlesOfBids x = new BundlesOfBids();
@@ -105,7 +100,7 @@ public final class EdgesTest {
             due("judge", x.judge(how), -9);
             due("blocks", x.blocks(how, 0), -9);
             due("blocks by", x.blocks(how, 1), 0);
-            fraction("mean", x.mean(how, 0), x.mean(how, 1), 0, 1);
+            CHECKS.fraction("mean", x.mean(how, 0), x.mean(how, 1), 0, 1);
             for (int who = 0; who < 5; who++) {
                 due("pays", x.pays(who, how), 0);
             }
@@ -510,6 +505,12 @@ public final class EdgesTest {
         // In THE ORDER 1, 0: with 1 comes to 9; without it the bound is the RESERVE, 9: not below.
         due("a RESERVE as a PRICE", kept.winners(3), 6);
         due("no BIDS", new BundlesOfBids().winners(3), 1);
+        BundlesOfBids again = Sales.told("bid 0 a 50;bid 0 b 50;");
+        due("two", again.winners(3), 5);
+        due("once more", again.winners(3), 5);
+        again.price(0, 1);
+        again.price(1, 1);
+        due("0 at first, whatever was found before", again.winners(3), 5);
     }
 
     private static void rank() {
@@ -629,6 +630,7 @@ public final class EdgesTest {
         due("by HARM all that it WON", x.pays(0, 1), 99);
         x.turns(1);
         due("by HARM of nobody", x.pays(0, 1), 0);
+        due("1 for 1", Sales.told("bid 3 a 1;bid 4 a 1;").pays(3, 1), 1);
         x.keep(0, 9);
         due("by HARM what it is kept for", x.pays(0, 1), 9);
         BundlesOfBids y = Sales.told("bid 4 abc 18;bid 0 a 9;bid 1 b 9;bid 2 c 3;");
@@ -741,6 +743,29 @@ public final class EdgesTest {
         for (int who = 0; who < 5; who++) {
             due("one twice", x.envy(who, who), -1);
         }
+        part("Promise 21: of one for another one");
+        for (int one = 0; one < 5; one++) {
+            for (int other = 0; other < 5; other++) {
+                if (one != other) {
+                    envyOf(one, other);
+                }
+            }
+        }
+    }
+
+    private static void envyOf(int one, int other) {
+        int third = 0;
+        while (third == one || third == other) {
+            third++;
+        }
+        BundlesOfBids x = Sales.told("kind " + one + " 3 1;bid " + one + " a 10;bid " + one + " b 10;bid " + other
+            + " a 12;bid " + other + " b 3;bid " + third + " b 2;");
+        for (int who = 0; who < 5; who++) {
+            for (int whom = 0; whom < 5; whom++) {
+                int want = who == one && whom == other ? 1 : who == whom ? -1 : 0;
+                due("envy(" + who + "," + whom + ") of " + one + " for " + other, x.envy(who, whom), want);
+            }
+        }
     }
 
     private static void gain() {
@@ -817,6 +842,21 @@ public final class EdgesTest {
         x.turns(0);
         due("ON then", x.least(0), 2);
         due("off still", x.bid(0, 3), 0);
+        BundlesOfBids ten = new BundlesOfBids();
+        for (int b = 0; b < 10; b++) {
+            ten.bids(b % 5, 1 << b % 5, 20);
+            ten.turns(b);
+        }
+        for (int b = 0; b < 10; b++) {
+            due("ON then, alone", ten.least(b), 1);
+            due("off still", ten.count(1), 0);
+        }
+        BundlesOfBids proud = Sales.told("kind 0 5 2;bid 0 a 10;bid 0 b 40;");
+        due("a PROUD one has both for 1", proud.least(1), 1);
+        proud.keep(1, 9);
+        due("10 and 1 are above a RESERVE of 9", proud.least(1), 1);
+        proud.price(0, 1);
+        due("1 and 8 are not above 9, 1 and 9 are", proud.least(1), 9);
     }
 
     private static void tight() {
@@ -845,6 +885,10 @@ public final class EdgesTest {
         due("60 of one BID wins, 59 doesn't", y.tight(), 64);
         y.price(6, 99);
         due("98 does", y.tight(), 0);
+        BundlesOfBids proud = Sales.told("kind 0 5 2;bid 0 a 10;bid 0 b 1;");
+        due("a PROUD one has both, even for nothing", proud.tight(), 0);
+        proud.kind(0, 0, 0);
+        due("an ANY one not", proud.tight(), 2);
     }
 
     private static void missing() {
@@ -856,74 +900,64 @@ public final class EdgesTest {
         long half = 1;
         for (int b = 0; b < 10; b++) {
             half *= 2;
-            fraction("all ahead of it are missing, " + b, x.missing(b, 2, 0), x.missing(b, 2, 1), 1, half);
+            CHECKS.fraction("all ahead of it are missing, " + b, x.missing(b, 2, 0), x.missing(b, 2, 1), 1, half);
         }
         long below = 1;
         for (int b = 0; b < 10; b++) {
             below *= 20;
-            fraction("1 in 20, " + b, x.missing(b, 20, 0), x.missing(b, 20, 1), 19, below);
+            CHECKS.fraction("1 in 20, " + b, x.missing(b, 20, 0), x.missing(b, 20, 1), 19, below);
         }
         BundlesOfBids six = Sales.told("bid 0 a 9;bid 1 b 9;bid 2 c 9;bid 3 d 9;bid 4 e 9;bid 0 f 9;bid 1 abcdef 53;");
         // The one of all items wins unless all six come, which are worth 54.
-        fraction("unless all six come", six.missing(6, 2, 0), six.missing(6, 2, 1), 63, 128);
-        fraction("with all others, or without the one", six.missing(0, 2, 0), six.missing(0, 2, 1), 33, 128);
+        CHECKS.fraction("unless all six come", six.missing(6, 2, 0), six.missing(6, 2, 1), 63, 128);
+        CHECKS.fraction("with all others, or without the one", six.missing(0, 2, 0), six.missing(0, 2, 1), 33, 128);
         part("Promise 26: 0 by 1, if nothing");
         six.turns(6);
-        fraction("off", six.missing(6, 2, 0), six.missing(6, 2, 1), 0, 1);
-        fraction("half of one", six.missing(0, 2, 0), six.missing(0, 2, 1), 1, 2);
-        fraction("19 of 20", six.missing(5, 20, 0), six.missing(5, 20, 1), 19, 20);
+        CHECKS.fraction("off", six.missing(6, 2, 0), six.missing(6, 2, 1), 0, 1);
+        CHECKS.fraction("half of one", six.missing(0, 2, 0), six.missing(0, 2, 1), 1, 2);
+        CHECKS.fraction("19 of 20", six.missing(5, 20, 0), six.missing(5, 20, 1), 19, 20);
     }
 
     private static void mean() {
         part("Promise 27: fractions in least terms (0 by 1, if nothing)");
         BundlesOfBids x = Sales.told("bid 0 a 9;bid 1 b 9;bid 2 c 9;");
-        fraction("27 by 3", x.mean(0, 0), x.mean(0, 1), 9, 1);
-        fraction("0 by 3", x.mean(1, 0), x.mean(1, 1), 0, 1);
+        CHECKS.fraction("27 by 3", x.mean(0, 0), x.mean(0, 1), 9, 1);
+        CHECKS.fraction("0 by 3", x.mean(1, 0), x.mean(1, 1), 0, 1);
         x.price(2, 10);
-        fraction("28 by 3", x.mean(0, 0), x.mean(0, 1), 28, 3);
+        CHECKS.fraction("28 by 3", x.mean(0, 0), x.mean(0, 1), 28, 3);
         x.turns(0);
         x.price(2, 9);
-        fraction("18 by 2", x.mean(0, 0), x.mean(0, 1), 9, 1);
+        CHECKS.fraction("18 by 2", x.mean(0, 0), x.mean(0, 1), 9, 1);
         x.bids(3, 56, 8);
         x.bids(4, 1, 2);
-        fraction("28 by 4", x.mean(0, 0), x.mean(0, 1), 7, 1);
+        CHECKS.fraction("28 by 4", x.mean(0, 0), x.mean(0, 1), 7, 1);
         x.price(4, 4);
-        fraction("30 by 4", x.mean(0, 0), x.mean(0, 1), 15, 2);
+        CHECKS.fraction("30 by 4", x.mean(0, 0), x.mean(0, 1), 15, 2);
         x.turns(1);
         x.turns(2);
         x.turns(3);
-        fraction("by one", x.mean(0, 0), x.mean(0, 1), 4, 1);
+        CHECKS.fraction("by one", x.mean(0, 0), x.mean(0, 1), 4, 1);
         x.turns(4);
-        fraction("by none", x.mean(0, 0), x.mean(0, 1), 0, 1);
+        CHECKS.fraction("by none", x.mean(0, 0), x.mean(0, 1), 0, 1);
         BundlesOfBids five = Sales.told("bid 0 a 99;bid 1 b 99;bid 2 c 99;bid 3 d 99;bid 4 e 99;bid 4 f 99;");
-        fraction("594 by 5", five.mean(0, 0), five.mean(0, 1), 594, 5);
+        CHECKS.fraction("594 by 5", five.mean(0, 0), five.mean(0, 1), 594, 5);
     }
 
     private static void printed() {
         part("Promise 28: the i-th letter (-1: how many); -9 behind all");
-        prints("bid 0 abcdef 1;", "0:abcdef=1/1");
-        prints("bid 4 abcdef 99;", "4:abcdef=99/99");
-        prints("bid 4 fedcba 10;", "4:abcdef=10/10");
-        prints("bid 1 a 9;bid 2 f 9;", "1:a=9;2:f=9/18");
-        prints("bid 1 f 9;bid 2 a 99;", "1:f=9;2:a=99/108");
-        prints("bid 1 f 1;keep a 9;", "1:f=1/10");
-        prints("bid 1 a 1;bid 2 b 99;", "1:a=1;2:b=99/100");
-        prints("bid 1 a 1;bid 2 b 98;", "1:a=1;2:b=98/99");
-        prints("keep a 9;", "/9");
-        prints("keep a 9;keep b 1;", "/10");
-        prints("keep a 0;", "/0");
-        prints("bid 0 a 99;bid 1 b 99;bid 2 c 99;bid 3 d 99;bid 4 e 99;bid 0 f 99;",
+        CHECKS.prints(Sales.told("bid 0 abcdef 1;"), "0:abcdef=1/1");
+        CHECKS.prints(Sales.told("bid 4 abcdef 99;"), "4:abcdef=99/99");
+        CHECKS.prints(Sales.told("bid 4 fedcba 10;"), "4:abcdef=10/10");
+        CHECKS.prints(Sales.told("bid 1 a 9;bid 2 f 9;"), "1:a=9;2:f=9/18");
+        CHECKS.prints(Sales.told("bid 1 f 9;bid 2 a 99;"), "1:f=9;2:a=99/108");
+        CHECKS.prints(Sales.told("bid 1 f 1;keep a 9;"), "1:f=1/10");
+        CHECKS.prints(Sales.told("bid 1 a 1;bid 2 b 99;"), "1:a=1;2:b=99/100");
+        CHECKS.prints(Sales.told("bid 1 a 1;bid 2 b 98;"), "1:a=1;2:b=98/99");
+        CHECKS.prints(Sales.told("keep a 9;"), "/9");
+        CHECKS.prints(Sales.told("keep a 9;keep b 1;"), "/10");
+        CHECKS.prints(Sales.told("keep a 0;"), "/0");
+        CHECKS.prints(Sales.told("bid 0 a 99;bid 1 b 99;bid 2 c 99;bid 3 d 99;bid 4 e 99;bid 0 f 99;"),
             "0:a=99;1:b=99;2:c=99;3:d=99;4:e=99;0:f=99/594");
-    }
-
-    private static void prints(String text, String want) {
-        BundlesOfBids x = Sales.told(text);
-        due("printed(-1) of " + want, x.printed(-1), want.length());
-        for (int i = 0; i < want.length(); i++) {
-            due("printed(" + i + ") of " + want, x.printed(i), want.charAt(i));
-        }
-        due("behind " + want, x.printed(want.length()), -9);
-        due("far behind " + want, x.printed(MOST_INT), -9);
     }
 
     private static void whatIs() {
@@ -1154,6 +1188,13 @@ public final class EdgesTest {
         for (int what = 11; what <= 16; what++) {
             due("count(" + what + ")", x.count(what), 0);
         }
+        BundlesOfBids one = Sales.told("bid 3 a 1;bid 4 b 1;bid 2 b 1;");
+        due("BIDDERS that WON 1", one.count(3), 24);
+        due("PRICES of 1", one.count(4), 3);
+        one.turns(0);
+        one.turns(2);
+        due("one that WON 1", one.count(3), 16);
+        part("Promise 36: REFUSALS");
         for (int times = 1; times <= 100; times++) {
             x.winners(-1);
             due("REFUSALS -2", x.count(12), times);

@@ -879,30 +879,25 @@ public final class PromisesTest {
         due("none", new BundlesOfBids().tight(), 0);
     }
 
-    private static void fraction(String call, long above, long below, long wantAbove, long wantBelow) {
-        due(call + " above", above, wantAbove);
-        due(call + " below", below, wantBelow);
-    }
-
     private static void missing() {
         part("26 missing");
         BundlesOfBids x = Sales.told(FIVE);
-        fraction("bid 0", x.missing(0, 3, 0), x.missing(0, 3, 1), 46, 81);
-        fraction("bid 3", x.missing(3, 3, 0), x.missing(3, 3, 1), 2, 9);
+        CHECKS.fraction("bid 0", x.missing(0, 3, 0), x.missing(0, 3, 1), 46, 81);
+        CHECKS.fraction("bid 3", x.missing(3, 3, 0), x.missing(3, 3, 1), 2, 9);
         BundlesOfBids y = Sales.told("bid 0 a 5;bid 1 a 4;");
-        fraction("the first comes", y.missing(0, 2, 0), y.missing(0, 2, 1), 1, 2);
-        fraction("the other one doesn't", y.missing(1, 2, 0), y.missing(1, 2, 1), 1, 4);
-        fraction("1 in 20", y.missing(1, 20, 0), y.missing(1, 20, 1), 19, 400);
+        CHECKS.fraction("the first comes", y.missing(0, 2, 0), y.missing(0, 2, 1), 1, 2);
+        CHECKS.fraction("the other one doesn't", y.missing(1, 2, 0), y.missing(1, 2, 1), 1, 4);
+        CHECKS.fraction("1 in 20", y.missing(1, 20, 0), y.missing(1, 20, 1), 19, 400);
         y.keep(0, 4);
-        fraction("never", y.missing(1, 20, 0), y.missing(1, 20, 1), 0, 1);
+        CHECKS.fraction("never", y.missing(1, 20, 0), y.missing(1, 20, 1), 0, 1);
         y.turns(0);
-        fraction("off", y.missing(0, 2, 0), y.missing(0, 2, 1), 0, 1);
+        CHECKS.fraction("off", y.missing(0, 2, 0), y.missing(0, 2, 1), 0, 1);
         BundlesOfBids z = new BundlesOfBids();
         for (int i = 0; i < 10; i++) {
             z.bids(0, 1, 99 - i);
         }
-        fraction("the last of ten", z.missing(9, 20, 0), z.missing(9, 20, 1), 19, 10240000000000L);
-        fraction("the first of ten", z.missing(0, 20, 0), z.missing(0, 20, 1), 19, 20);
+        CHECKS.fraction("the last of ten", z.missing(9, 20, 0), z.missing(9, 20, 1), 19, 10240000000000L);
+        CHECKS.fraction("the first of ten", z.missing(0, 20, 0), z.missing(0, 20, 1), 19, 20);
         due("nobody", x.missing(5, 1, 2), LONG_REFUSAL + 1);
         due("nobody", x.missing(-1, 21, 2), LONG_REFUSAL + 1);
         due("below", x.missing(0, 1, 2), LONG_REFUSAL + 4);
@@ -918,13 +913,13 @@ public final class PromisesTest {
     private static void mean() {
         part("27 mean");
         BundlesOfBids x = Sales.told(FIVE);
-        fraction("as bid", x.mean(0, 0), x.mean(0, 1), 29, 2);
-        fraction("by harm", x.mean(1, 0), x.mean(1, 1), 17, 2);
-        fraction("lifted", x.mean(2, 0), x.mean(2, 1), 17, 2);
+        CHECKS.fraction("as bid", x.mean(0, 0), x.mean(0, 1), 29, 2);
+        CHECKS.fraction("by harm", x.mean(1, 0), x.mean(1, 1), 17, 2);
+        CHECKS.fraction("lifted", x.mean(2, 0), x.mean(2, 1), 17, 2);
         BundlesOfBids y = Sales.told(CHEAP);
-        fraction("as bid", y.mean(0, 0), y.mean(0, 1), 10, 1);
-        fraction("nothing", y.mean(1, 0), y.mean(1, 1), 0, 1);
-        fraction("lifted", y.mean(2, 0), y.mean(2, 1), 5, 1);
+        CHECKS.fraction("as bid", y.mean(0, 0), y.mean(0, 1), 10, 1);
+        CHECKS.fraction("nothing", y.mean(1, 0), y.mean(1, 1), 0, 1);
+        CHECKS.fraction("lifted", y.mean(2, 0), y.mean(2, 1), 5, 1);
         due("mean(3,2)", x.mean(3, 2), LONG_REFUSAL + 2);
         due("mean(-1,0)", x.mean(-1, 0), LONG_REFUSAL + 2);
         due("mean(0,2)", x.mean(0, 2), LONG_REFUSAL + 2);
@@ -932,25 +927,17 @@ public final class PromisesTest {
         due("count(12)", x.count(12), 4);
     }
 
-    private static void prints(BundlesOfBids x, String text) {
-        due("printed(-1) for " + text, x.printed(-1), text.length());
-        for (int i = 0; i < text.length(); i++) {
-            due("printed(" + i + ") for " + text, x.printed(i), text.charAt(i));
-        }
-        due("printed behind " + text, x.printed(text.length()), -9);
-    }
-
     private static void printed() {
         part("28 printed");
-        prints(new BundlesOfBids(), "/0");
-        prints(Sales.told(FIVE), "0:ab=20;1:c=9/29");
-        prints(Sales.told("keep a 9;keep b 9;bid 0 a 8;"), "/18");
-        prints(Sales.told("bid 4 fca 7;"), "4:acf=7/7");
-        prints(Sales.told("bid 0 f 99;bid 1 e 98;bid 2 d 97;bid 3 c 96;bid 4 b 95;bid 0 a 94;"),
+        CHECKS.prints(new BundlesOfBids(), "/0");
+        CHECKS.prints(Sales.told(FIVE), "0:ab=20;1:c=9/29");
+        CHECKS.prints(Sales.told("keep a 9;keep b 9;bid 0 a 8;"), "/18");
+        CHECKS.prints(Sales.told("bid 4 fca 7;"), "4:acf=7/7");
+        CHECKS.prints(Sales.told("bid 0 f 99;bid 1 e 98;bid 2 d 97;bid 3 c 96;bid 4 b 95;bid 0 a 94;"),
             "0:f=99;1:e=98;2:d=97;3:c=96;4:b=95;0:a=94/579");
         BundlesOfBids x = Sales.told("bid 0 a 50;bid 0 b 50;");
-        prints(x, "0:a=50;0:b=50/100");
-        prints(Sales.told("bid 0 a 99;bid 0 b 99;"), "0:a=99;0:b=99/198");
+        CHECKS.prints(x, "0:a=50;0:b=50/100");
+        CHECKS.prints(Sales.told("bid 0 a 99;bid 0 b 99;"), "0:a=99;0:b=99/198");
         due("printed(most)", x.printed(MOST_INT), -9);
         due("printed(-2)", x.printed(-2), -4);
         due("printed(least)", x.printed(LEAST_INT), -4);
