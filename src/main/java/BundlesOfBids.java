@@ -839,7 +839,7 @@ public final class BundlesOfBids {
 
         private int pricesOf(int bits) {
             int sum = 0;
-            for (int b = 0; b < came; b++) {
+            for (int b = 0; b < came && b < MOST_BIDS; b++) {
                 if ((bits & (1 << b)) != 0) {
                     sum += prices[b];
                 }
@@ -849,7 +849,7 @@ public final class BundlesOfBids {
 
         private int itemsOf(int bits) {
             int items = 0;
-            for (int b = 0; b < came; b++) {
+            for (int b = 0; b < came && b < MOST_BIDS; b++) {
                 if ((bits & (1 << b)) != 0) {
                     items |= sets[b];
                 }
@@ -860,7 +860,7 @@ public final class BundlesOfBids {
         /** The bids that are on and have one of these items. */
         private int holders(int items) {
             int bits = 0;
-            for (int b = 0; b < came; b++) {
+            for (int b = 0; b < came && b < MOST_BIDS; b++) {
                 if ((sets[b] & items) != 0) {
                     bits |= 1 << b;
                 }
@@ -916,11 +916,12 @@ public final class BundlesOfBids {
         private static final int WORTH_TOP = 1023;
         private static final int WORTH_SHIFT = 14;
         private static final int COUNT_SHIFT = 10;
+        private static final int MOST_SETS = ALL_BIDS + 1;
 
-        private final int[] packs = new int[ALL_BIDS + 1];
-        private final int[] packItems = new int[ALL_BIDS + 1];
-        private final int[] packWorths = new int[ALL_BIDS + 1];
-        private final int[] keys = new int[ALL_BIDS + 1];
+        private final int[] packs = new int[MOST_SETS];
+        private final int[] packItems = new int[MOST_SETS];
+        private final int[] packWorths = new int[MOST_SETS];
+        private final int[] keys = new int[MOST_SETS];
         private int packCount = 0;
         private int size = 0;
 
@@ -939,8 +940,8 @@ public final class BundlesOfBids {
         private void gather(Sale sale) {
             gatherPacks(sale);
             size = 0;
-            for (int p = 0; p < packCount; p++) {
-                if (size < keys.length && sale.allows(packs[p])) {
+            for (int p = 0; p < packCount && p < MOST_SETS; p++) {
+                if (size < MOST_SETS && sale.allows(packs[p])) {
                     keys[size] = keyOf(packs[p], packWorths[p]);
                     size++;
                 }
@@ -956,7 +957,7 @@ public final class BundlesOfBids {
                     int set = sale.setOf(b);
                     int change = sale.priceOf(b) - sale.reservesBut(~set);
                     int before = packCount;
-                    for (int p = 0; p < before; p++) {
+                    for (int p = 0; p < before && p < MOST_SETS; p++) {
                         if ((packItems[p] & set) == 0) {
                             addPack(packs[p] | (1 << b), packItems[p] | set, packWorths[p] + change);
                         }
@@ -966,7 +967,7 @@ public final class BundlesOfBids {
         }
 
         private void addPack(int bits, int items, int worth) {
-            if (packCount < packs.length) {
+            if (packCount < MOST_SETS) {
                 packs[packCount] = bits;
                 packItems[packCount] = items;
                 packWorths[packCount] = worth;
@@ -974,9 +975,13 @@ public final class BundlesOfBids {
             }
         }
 
+        private int keyAt(int k) {
+            return k >= 0 && k < size && k < MOST_SETS ? keys[k] : NO_KEY;
+        }
+
         private boolean has(int bits) {
             for (int k = 0; k < size; k++) {
-                if (bidsIn(keys[k]) == bits) {
+                if (bidsIn(keyAt(k)) == bits) {
                     return true;
                 }
             }
@@ -987,8 +992,9 @@ public final class BundlesOfBids {
         private int first(int some) {
             int best = NO_KEY;
             for (int k = 0; k < size; k++) {
-                if (keys[k] < best && (bidsIn(keys[k]) & ~some) == 0) {
-                    best = keys[k];
+                int key = keyAt(k);
+                if (key < best && (bidsIn(key) & ~some) == 0) {
+                    best = key;
                 }
             }
             return best;
@@ -1002,11 +1008,12 @@ public final class BundlesOfBids {
             return key;
         }
 
-        private int nextAbove(int key) {
+        private int nextAbove(int last) {
             int next = NO_KEY;
             for (int k = 0; k < size; k++) {
-                if (keys[k] > key && keys[k] < next) {
-                    next = keys[k];
+                int key = keyAt(k);
+                if (key > last && key < next) {
+                    next = key;
                 }
             }
             return next;
@@ -1015,7 +1022,7 @@ public final class BundlesOfBids {
         private int mostPrices(Sale sale, int some) {
             int most = 0;
             for (int k = 0; k < size; k++) {
-                int bits = bidsIn(keys[k]);
+                int bits = bidsIn(keyAt(k));
                 if ((bits & ~some) == 0) {
                     most = Math.max(most, sale.pricesOf(bits));
                 }
@@ -1164,7 +1171,7 @@ public final class BundlesOfBids {
                 return;
             }
             int place = length;
-            while (place > 0 && shares[order[place - 1]] < shares[bid]) {
+            while (place > 0 && shareOf(order[place - 1]) < shareOf(bid)) {
                 order[place] = order[place - 1];
                 place--;
             }
@@ -1172,9 +1179,17 @@ public final class BundlesOfBids {
             length++;
         }
 
+        private int bidAt(int place) {
+            return place >= 0 && place < length && place < MOST_BIDS ? order[place] : NONE;
+        }
+
+        private int shareOf(int bid) {
+            return bid >= 0 && bid < MOST_BIDS ? shares[bid] : 0;
+        }
+
         private int placeOf(int bid) {
             for (int place = 0; place < length; place++) {
-                if (order[place] == bid) {
+                if (bidAt(place) == bid) {
                     return place;
                 }
             }
@@ -1201,7 +1216,7 @@ public final class BundlesOfBids {
                 search.find(sale, taken);
                 return;
             }
-            int next = search.order[place];
+            int next = search.bidAt(place);
             if ((sale.setOf(next) & sale.itemsOf(taken)) == 0) {
                 look(search, sale, place + 1, taken | (1 << next));
             }
@@ -1228,9 +1243,10 @@ public final class BundlesOfBids {
 
         private int mostFor(Sale sale, int place, int item) {
             int most = WHOLE * sale.reserveOf(item);
-            for (int p = Math.max(0, place); p < length; p++) {
-                if (bitAt(sale.setOf(order[p]), item) == 1) {
-                    most = Math.max(most, shares[order[p]]);
+            for (int p = place; p < length; p++) {
+                int bid = bidAt(p);
+                if (bitAt(sale.setOf(bid), item) == 1) {
+                    most = Math.max(most, shareOf(bid));
                 }
             }
             return most;
@@ -1316,7 +1332,7 @@ public final class BundlesOfBids {
         }
 
         private int signHere() {
-            return place >= 0 && place < size ? letters[place] : NONE;
+            return place >= 0 && place < size && place < MOST_LETTERS ? letters[place] : NONE;
         }
 
         private static boolean isSmall(int sign) {
@@ -1373,7 +1389,7 @@ public final class BundlesOfBids {
         }
 
         private boolean spells(String word, int start, int end) {
-            if (start < 0 || end > size || end - start != word.length()) {
+            if (start < 0 || end > MOST_LETTERS || end - start != word.length()) {
                 return false;
             }
             for (int i = 0; i < word.length(); i++) {
@@ -1483,7 +1499,7 @@ public final class BundlesOfBids {
         private int length = 0;
 
         private int signAt(int i) {
-            return i >= 0 && i < length ? signs[i] : NONE;
+            return i >= 0 && i < length && i < MOST_SIGNS ? signs[i] : NONE;
         }
 
         private void putWinners(Sale sale, int winning, int worth) {
