@@ -511,6 +511,14 @@ public final class EdgesTest {
         again.price(0, 1);
         again.price(1, 1);
         due("0 at first, whatever was found before", again.winners(3), 5);
+        part("Promise 12: LOOKED: at the end of THE ORDER what is taken is found, not before");
+        // With 0 alone 59 would be found at once; but 0, 1 and 2 (58) and 0 and 1 (55) come to the end ahead of it.
+        BundlesOfBids last = Sales.told("keep b 9;bid 0 a 50;bid 1 b 5;bid 2 c 3;");
+        due("55 is not below 0", last.winners(3), 9);
+        part("Promise 12: LOOKED: BOUND counts BIDS that have an ITEM in common with those taken, too");
+        // 0 and 2 come to 22. With 1 (ab) BID 2 (bc) still puts 6 on c: 24 is not below 22, 18 and 3 are.
+        BundlesOfBids clash = Sales.told("bid 0 a 10;bid 1 ab 18;bid 2 bc 12;bid 3 c 3;");
+        due("one more behind 24", clash.winners(3), 10);
     }
 
     private static void rank() {
@@ -697,6 +705,15 @@ public final class EdgesTest {
         due("nobody then", three.blocks(2, 0), -9);
         due("by HARM as it was", three.pays(0, 1), 0);
         due("nothing WON, nothing LIFTED", new BundlesOfBids().lifts(), 0);
+        part("Promise 19: on payments of BIDDERS that aren't in it");
+        // By harm 0 pays 8, 1 and 2 nothing: 0 and 4 block by 20 less 8 less 2; 0 could pay 2 more, but is in it.
+        BundlesOfBids in = Sales.told("bid 0 a 10;bid 3 a 8;bid 1 b 10;bid 2 c 10;bid 4 bc 10;");
+        due("0 and 4", in.blocks(1, 0), 17);
+        due("by 10", in.blocks(1, 1), 10);
+        due("once", in.lifts(), 1);
+        due("in it", in.pays(0, 2), 8);
+        due("not in it", in.pays(1, 2), 10);
+        due("behind the one that pays all", in.pays(2, 2), 0);
     }
 
     private static void group() {
@@ -736,6 +753,15 @@ public final class EdgesTest {
         x.price(3, 4);
         x.price(0, 8);
         due("8 less 0 less (10 less 4)", x.envy(0, 1), 2);
+        part("Promise 21: the most PRICES, whatever is kept for");
+        // With what b is kept for BID 1 would be worth 11, above BID 0: but 10 less 3 less (10 less 4) is asked.
+        BundlesOfBids kept = Sales.told("kind 0 3 1;keep b 2;bid 0 ab 10;bid 0 a 9;bid 0 c 10;bid 1 ab 12;bid 1 c 4;"
+            + "bid 2 c 2;");
+        due("0 pays", kept.pays(0, 1), 4);
+        due("1 pays", kept.pays(1, 1), 3);
+        due("10 less 3 less 6", kept.envy(0, 1), 1);
+        kept.turns(0);
+        due("9 less 3 less 6", kept.envy(0, 1), 0);
         part("Promise 21: 0, if none");
         due("for one that WON nothing", x.envy(0, 4), 0);
         due("of one that bids nothing", x.envy(4, 0), 0);
@@ -885,6 +911,9 @@ public final class EdgesTest {
         due("60 of one BID wins, 59 doesn't", y.tight(), 64);
         y.price(6, 99);
         due("98 does", y.tight(), 0);
+        // BID 0 is tight. A PRICE of 1 or 2 less leaves a and b 19, above 18; both less would leave just 18.
+        BundlesOfBids each = Sales.told("bid 0 c 10;bid 1 a 10;bid 2 b 10;bid 3 ab 18;bid 4 c 10;");
+        due("a PRICE of one alone is less", each.tight(), 1);
         BundlesOfBids proud = Sales.told("kind 0 5 2;bid 0 a 10;bid 0 b 1;");
         due("a PROUD one has both, even for nothing", proud.tight(), 0);
         proud.kind(0, 0, 0);
@@ -1158,6 +1187,22 @@ public final class EdgesTest {
         x.price(9, 2);
         due("on from it once more", x.on(), 10);
         due("PRICE as then", x.bid(9, 2), 99);
+        part("Promises 34, 35: neither touches the ROW, letters, REFUSALS");
+        BundlesOfBids y = Sales.told("bid 0 a 9;bid 1 a 9;");
+        y.on();
+        y.row(9);
+        y.row(1);
+        Sales.send(y, "off 0;");
+        due("image()", y.image(), 2);
+        due("the ROW", y.count(5), 2);
+        due("letters", y.count(6), 6);
+        due("REFUSALS", y.count(13), 1);
+        due("on()", y.on(), 2);
+        due("the ROW as it was", y.judge(0), 1);
+        due("the letters as they were", y.auction(), 1);
+        due("now it is off", y.count(1), 2);
+        due("in THE IMAGE it is ON", y.on(), 2);
+        due("ON as then", y.count(1), 3);
     }
 
     private static void count() {

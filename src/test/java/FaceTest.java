@@ -22,7 +22,7 @@ import java.util.spi.ToolProvider;
 public final class FaceTest {
     private static final Checks CHECKS = new Checks();
     private static final Path SOURCE = Path.of("src/main/java/BundlesOfBids.java");
-    private static final String[] FACE = {
+    static final String[] FACE = {
         "int letter(int)", "int auction()", "int bids(int,int,int)", "int turns(int)", "int price(int,int)",
         "int kind(int,int,int)", "int keep(int,int)", "int bid(int,int)", "int bidder(int,int)", "int may(int)",
         "int winners(int)", "int rank(int,int)", "int item(int,int)", "int rival(int,int)", "int of(int,int)",

@@ -60,7 +60,7 @@ public final class PromisesTest {
     }
 
     private static void newObject() {
-        part("1 new object");
+        part("Promise 1: new object");
         BundlesOfBids x = new BundlesOfBids();
         for (int what = 0; what <= 6; what++) {
             due("count(" + what + ")", x.count(what), 0);
@@ -100,7 +100,7 @@ public final class PromisesTest {
     }
 
     private static void letter() {
-        part("2 letter");
+        part("Promise 2: letter");
         BundlesOfBids x = new BundlesOfBids();
         due("letter(0)", x.letter(0), 1);
         due("letter(255)", x.letter(255), 2);
@@ -123,7 +123,7 @@ public final class PromisesTest {
     }
 
     private static void auctionTexts() {
-        part("3 auction");
+        part("Promise 3: auction");
         BundlesOfBids x = new BundlesOfBids();
         due("one", Sales.hear(x, "bid 4 fa 99;"), 1);
         due("bid(0,0)", x.bid(0, 0), 4);
@@ -161,7 +161,7 @@ public final class PromisesTest {
     }
 
     private static void auctionFaultsOfForm() {
-        part("3 faults of form");
+        part("Promise 3: faults of form");
         form("", 0);
         form(";", 0);
         form(" bid 0 a 1;", 0);
@@ -228,7 +228,7 @@ public final class PromisesTest {
     }
 
     private static void auctionFaultsOfSense() {
-        part("3 faults of sense");
+        part("Promise 3: faults of sense");
         sense("bid 5 a 1;", 0);
         sense("bid 10 a 1;", 0);
         sense("bid 0 aa 1;", 0);
@@ -268,7 +268,7 @@ public final class PromisesTest {
     }
 
     private static void auctionIsAllOrNothing() {
-        part("3 all or nothing");
+        part("Promise 3: all or nothing");
         BundlesOfBids x = new BundlesOfBids();
         due("fault", Sales.hear(x, "bid 0 a 5;keep b 3;kind 1 2 3;off 0;price 0 9;off 9;"), -2046);
         due("count(0)", x.count(0), 0);
@@ -287,7 +287,7 @@ public final class PromisesTest {
     }
 
     private static void bids() {
-        part("4 bids");
+        part("Promise 4: bids");
         BundlesOfBids x = new BundlesOfBids();
         due("least", x.bids(0, 1, 1), 0);
         due("most", x.bids(4, 63, 99), 1);
@@ -319,7 +319,7 @@ public final class PromisesTest {
     }
 
     private static void turns() {
-        part("5 turns");
+        part("Promise 5: turns");
         BundlesOfBids x = Sales.told(FIVE);
         due("turns(0)", x.turns(0), 0);
         due("bid(0,3)", x.bid(0, 3), 0);
@@ -338,7 +338,7 @@ public final class PromisesTest {
     }
 
     private static void price() {
-        part("6 price");
+        part("Promise 6: price");
         BundlesOfBids x = Sales.told(FIVE);
         due("price(3,99)", x.price(3, 99), 14);
         due("price(3,1)", x.price(3, 1), 99);
@@ -353,7 +353,7 @@ public final class PromisesTest {
     }
 
     private static void kind() {
-        part("7 kind");
+        part("Promise 7: kind");
         BundlesOfBids x = new BundlesOfBids();
         due("kind(0,5,9)", x.kind(0, 5, 9), 0);
         due("kind(0,3,2)", x.kind(0, 3, 2), 59);
@@ -370,7 +370,7 @@ public final class PromisesTest {
     }
 
     private static void kindsSayWhatMayWin() {
-        part("7 kinds");
+        part("Promise 7: kinds");
         BundlesOfBids x = Sales.told("bid 0 a 10;bid 0 b 11;bid 0 cd 12;bid 0 e 13;");
         due("any", x.winners(0), 15);
         x.kind(0, 1, 0);
@@ -424,7 +424,7 @@ public final class PromisesTest {
     }
 
     private static void keep() {
-        part("8 keep");
+        part("Promise 8: keep");
         BundlesOfBids x = Sales.told(FIVE);
         due("keep(0,9)", x.keep(0, 9), 0);
         due("keep(0,4)", x.keep(0, 4), 9);
@@ -443,7 +443,7 @@ public final class PromisesTest {
     }
 
     private static void bid() {
-        part("9 bid");
+        part("Promise 9: bid");
         BundlesOfBids x = Sales.told(FIVE);
         int[][] dues = {{0, 3, 20, 1, 1, 0}, {1, 1, 9, 1, 0, 1}, {2, 2, 8, 1, 0, 3}, {3, 6, 14, 1, 0, 4},
             {1, 4, 9, 1, 1, 2}};
@@ -468,7 +468,7 @@ public final class PromisesTest {
     }
 
     private static void bidder() {
-        part("10 bidder");
+        part("Promise 10: bidder");
         BundlesOfBids x = Sales.told(FIVE);
         x.kind(1, 2, 7);
         int[][] dues = {{0, 0, 1, 20, 17}, {2, 7, 18, 9, 0}, {0, 0, 4, 0, 0}, {0, 0, 8, 0, 0}, {0, 0, 0, 0, 0}};
@@ -488,7 +488,7 @@ public final class PromisesTest {
     }
 
     private static void may() {
-        part("11 may");
+        part("Promise 11: may");
         BundlesOfBids x = Sales.told(FIVE);
         due("none", x.may(0), 1);
         due("0 and 4", x.may(17), 1);
@@ -511,7 +511,7 @@ public final class PromisesTest {
     }
 
     private static void winners() {
-        part("12 winners");
+        part("Promise 12: winners");
         BundlesOfBids x = Sales.told(FIVE);
         due("winners(0)", x.winners(0), 17);
         due("winners(1)", x.winners(1), 29);
@@ -527,7 +527,7 @@ public final class PromisesTest {
     }
 
     private static void winnersTies() {
-        part("12 ties");
+        part("Promise 12: ties");
         BundlesOfBids x = Sales.told("bid 0 a 10;bid 1 b 10;bid 2 ab 20;");
         due("least bids", x.winners(0), 4);
         BundlesOfBids y = Sales.told("bid 0 b 10;bid 1 ab 20;bid 2 a 10;bid 3 ab 20;");
@@ -538,7 +538,7 @@ public final class PromisesTest {
     }
 
     private static void looked() {
-        part("12 looked");
+        part("Promise 12: looked");
         BundlesOfBids x = Sales.told("bid 0 a 5;");
         due("root, with, end; without is below", x.winners(3), 3);
         x.keep(0, 5);
@@ -561,7 +561,7 @@ public final class PromisesTest {
     }
 
     private static void rank() {
-        part("13 rank");
+        part("Promise 13: rank");
         BundlesOfBids x = Sales.told(FIVE);
         int[] bits = {17, 22, 10, 1, 18, 6, 20, 8, 2, 16, 4, 0};
         int[] worths = {29, 26, 23, 20, 18, 17, 17, 14, 9, 9, 8, 0};
@@ -585,7 +585,7 @@ public final class PromisesTest {
     }
 
     private static void item() {
-        part("14 item");
+        part("Promise 14: item");
         BundlesOfBids x = Sales.told(FIVE);
         x.keep(3, 6);
         int[][] dues = {{0, 0, 12, 2}, {0, 0, 11, 3}, {0, 4, 9, 2}, {6, -9, 6, 0}, {0, -9, 0, 0}, {0, -9, 0, 0}};
@@ -603,7 +603,7 @@ public final class PromisesTest {
     }
 
     private static void rival() {
-        part("15 rival");
+        part("Promise 15: rival");
         BundlesOfBids x = Sales.told(FIVE);
         int[][] dues = {{14, 0, 0}, {1, 1, 11}, {9, 1, 12}, {21, 17, 15}, {8, 0, 0}};
         for (int b = 0; b < 5; b++) {
@@ -624,7 +624,7 @@ public final class PromisesTest {
     }
 
     private static void of() {
-        part("16 of");
+        part("Promise 16: of");
         BundlesOfBids x = Sales.told(FIVE);
         due("of(31,0)", x.of(31, 0), 17);
         due("of(30,0)", x.of(30, 0), 22);
@@ -642,7 +642,7 @@ public final class PromisesTest {
     }
 
     private static void pays() {
-        part("17 pays");
+        part("Promise 17: pays");
         BundlesOfBids x = Sales.told(FIVE);
         int[][] dues = {{20, 17, 17}, {9, 0, 0}, {0, 0, 0}, {0, 0, 0}, {0, 0, 0}};
         for (int b = 0; b < 5; b++) {
@@ -669,7 +669,7 @@ public final class PromisesTest {
     }
 
     private static void blocksAndLifts() {
-        part("18, 19 blocks, lifts");
+        part("Promises 18, 19: blocks, lifts");
         BundlesOfBids x = Sales.told(CHEAP);
         due("as bid nobody", x.blocks(0, 0), -9);
         due("as bid by nothing", x.blocks(0, 1), 0);
@@ -708,7 +708,7 @@ public final class PromisesTest {
     }
 
     private static void group() {
-        part("20 group");
+        part("Promise 20: group");
         BundlesOfBids x = Sales.told(FIVE);
         due("group(0,0)", x.group(0, 0), 0);
         due("group(0,1)", x.group(0, 1), 0);
@@ -735,7 +735,7 @@ public final class PromisesTest {
     }
 
     private static void envy() {
-        part("21 envy");
+        part("Promise 21: envy");
         BundlesOfBids x = Sales.told(CHEAP);
         due("0 for 1", x.envy(0, 1), 0);
         BundlesOfBids y = Sales.told("bid 0 a 10;bid 0 b 4;bid 1 a 7;bid 2 b 9;bid 2 c 1;");
@@ -806,7 +806,7 @@ public final class PromisesTest {
     }
 
     private static void gain() {
-        part("22 gain");
+        part("Promise 22: gain");
         BundlesOfBids x = Sales.told(FIVE);
         due("gain(0)", x.gain(0), 0);
         due("gain(1)", x.gain(1), -3);
@@ -823,7 +823,7 @@ public final class PromisesTest {
     }
 
     private static void without() {
-        part("23 without");
+        part("Promise 23: without");
         BundlesOfBids x = Sales.told(FIVE);
         int[] dues = {26, 29, 29, 29, 23};
         for (int b = 0; b < 5; b++) {
@@ -838,7 +838,7 @@ public final class PromisesTest {
     }
 
     private static void least() {
-        part("24 least");
+        part("Promise 24: least");
         BundlesOfBids x = Sales.told(FIVE);
         int[] dues = {17, 13, 12, 20, 4};
         for (int b = 0; b < 5; b++) {
@@ -864,7 +864,7 @@ public final class PromisesTest {
     }
 
     private static void tight() {
-        part("25 tight");
+        part("Promise 25: tight");
         BundlesOfBids x = Sales.told(CHEAP);
         due("neither", x.tight(), 0);
         x.price(0, 18);
@@ -880,7 +880,7 @@ public final class PromisesTest {
     }
 
     private static void missing() {
-        part("26 missing");
+        part("Promise 26: missing");
         BundlesOfBids x = Sales.told(FIVE);
         CHECKS.fraction("bid 0", x.missing(0, 3, 0), x.missing(0, 3, 1), 46, 81);
         CHECKS.fraction("bid 3", x.missing(3, 3, 0), x.missing(3, 3, 1), 2, 9);
@@ -911,7 +911,7 @@ public final class PromisesTest {
     }
 
     private static void mean() {
-        part("27 mean");
+        part("Promise 27: mean");
         BundlesOfBids x = Sales.told(FIVE);
         CHECKS.fraction("as bid", x.mean(0, 0), x.mean(0, 1), 29, 2);
         CHECKS.fraction("by harm", x.mean(1, 0), x.mean(1, 1), 17, 2);
@@ -928,7 +928,7 @@ public final class PromisesTest {
     }
 
     private static void printed() {
-        part("28 printed");
+        part("Promise 28: printed");
         CHECKS.prints(new BundlesOfBids(), "/0");
         CHECKS.prints(Sales.told(FIVE), "0:ab=20;1:c=9/29");
         CHECKS.prints(Sales.told("keep a 9;keep b 9;bid 0 a 8;"), "/18");
@@ -945,7 +945,7 @@ public final class PromisesTest {
     }
 
     private static void whatIs() {
-        part("29 whatIs");
+        part("Promise 29: whatIs");
         // As ANY bidder 0 wins both and pays 5 and 3; as a ONE it wins b alone and pays 3.
         BundlesOfBids x = Sales.told("bid 0 a 9;bid 0 b 8;bid 1 a 5;bid 2 b 3;");
         due("of none all is so", x.whatIs(0, 0), 63);
@@ -974,7 +974,7 @@ public final class PromisesTest {
     }
 
     private static void rowJudgeClear() {
-        part("30, 31, 32 row, judge, clear");
+        part("Promises 30, 31, 32: row, judge, clear");
         BundlesOfBids x = Sales.told(FIVE);
         due("row(-1)", x.row(-1), -4);
         due("row(100)", x.row(100), -6);
@@ -1017,7 +1017,7 @@ public final class PromisesTest {
     }
 
     private static void lots() {
-        part("33 lots");
+        part("Promise 33: lots");
         BundlesOfBids x = Sales.told("bid 0 a 5;");
         // z = 1 becomes 1015568748: by 256, cut, 3967065; modulo 99 is 36. Then 1586005467: 6195333; 12.
         due("one", x.lots(1, 1, 0), 37);
@@ -1053,7 +1053,7 @@ public final class PromisesTest {
     }
 
     private static void imageAndOn() {
-        part("34, 35 image, on");
+        part("Promises 34, 35: image, on");
         BundlesOfBids x = Sales.told(FIVE);
         due("none yet", x.on(), -3);
         x.keep(1, 3);
@@ -1098,7 +1098,7 @@ public final class PromisesTest {
     }
 
     private static void count() {
-        part("36 count");
+        part("Promise 36: count");
         BundlesOfBids x = Sales.told(FIVE);
         x.turns(1);
         x.keep(4, 2);

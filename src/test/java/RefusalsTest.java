@@ -7,7 +7,7 @@ import java.util.TreeSet;
  * one with some of all and in one that is full. Each argument is one below and one above each bound, at it,
  * and the smallest and the largest int, with all of these of the other arguments: so where two refusals
  * would do, the first is seen to come first. A call that is refused changes nothing but one count; a call
- * that isn't is answered as by the model.
+ * that isn't is answered as by the model, and behind it all is as in the model.
  */
 public final class RefusalsTest {
     private static final Checks CHECKS = new Checks();
@@ -20,6 +20,9 @@ public final class RefusalsTest {
     private static final int ROOM = -6;
     private static final int ALWAYS = -1;
     private static final int TWICE = -2;
+
+    /** All that an object holds to which no call was made behind its filling. */
+    private static List<Long> untouched = List.of();
 
     private enum State { EMPTY, SOME, FULL }
 
@@ -92,11 +95,12 @@ public final class RefusalsTest {
 
     public static void main(String[] args) {
         for (State state : State.values()) {
+            untouched = all(filled(state).x);
             List<Rule> rules = rules(state);
             CHECKS.part("" + state);
             CHECKS.due("methods", rules.size(), Calls.NAMES.length);
             for (Rule rule : rules) {
-                CHECKS.part(state + ", promise " + rule.promise);
+                CHECKS.part("Promise " + rule.promise + " in state " + state);
                 tryAll(state, rule, new int[3], 0);
             }
         }
@@ -190,8 +194,7 @@ public final class RefusalsTest {
     }
 
     private static void tryOne(State state, Rule rule, int[] a) {
-        Twin twin = new Twin();
-        fill(twin, state);
+        Twin twin = filled(state);
         String call = rule.name + java.util.Arrays.toString(java.util.Arrays.copyOf(a, rule.arguments));
         long[] counts = refusalCounts(twin.x);
         int refused = rule.due(a);
@@ -206,9 +209,7 @@ public final class RefusalsTest {
         for (int number = 1; number <= 6; number++) {
             CHECKS.due(call + ", then count(1" + number + ")", after[number], counts[number]);
         }
-        if (refused != 0) {
-            compareWithUntouched(state, call, twin.x);
-        }
+        compare("behind " + call, all(twin.x), refused != 0 ? untouched : all(twin.model));
     }
 
     /** Of longs 4000000000000000000 less the number; of gain -100000 and the number. */
@@ -227,54 +228,63 @@ public final class RefusalsTest {
         return counts;
     }
 
-    private static void compareWithUntouched(State state, String call, BundlesOfBids x) {
-        Twin untouched = new Twin();
-        fill(untouched, state);
-        List<Long> want = all(untouched.x);
-        List<Long> got = all(x);
+    private static void compare(String when, List<Long> got, List<Long> want) {
         for (int i = 0; i < want.size() && i < got.size(); i++) {
-            CHECKS.due("behind " + call + " number " + i + " of all", got.get(i), want.get(i));
+            CHECKS.due(when + " number " + i + " of all", got.get(i), want.get(i));
         }
-        CHECKS.due("behind " + call + " all", got.size(), want.size());
+        CHECKS.due(when + " all", got.size(), want.size());
+    }
+
+    /** A call by its name, on the class or on the model. */
+    private interface Asked {
+        long of(String name, int p, int q);
+    }
+
+    private static List<Long> all(BundlesOfBids x) {
+        return all((name, p, q) -> Calls.of(x, name, p, q, 0));
+    }
+
+    private static List<Long> all(Model model) {
+        return all((name, p, q) -> Calls.of(model, name, p, q, 0));
     }
 
     /** All that an object holds but how many refusals there were: letters, ROW and image are asked last. */
-    private static List<Long> all(BundlesOfBids x) {
+    private static List<Long> all(Asked x) {
         List<Long> seen = new ArrayList<>();
         addSale(x, seen);
         for (int what = 0; what < 4; what++) {
-            seen.add((long) x.winners(what));
+            seen.add(x.of("winners", what, 0));
         }
         for (int who = 0; who < 5; who++) {
-            seen.add((long) x.pays(who, 2));
+            seen.add(x.of("pays", who, 2));
         }
-        seen.add((long) x.count(5));
-        seen.add((long) x.count(6));
-        seen.add((long) x.judge(1));
-        seen.add((long) x.clear());
-        seen.add((long) x.auction());
+        seen.add(x.of("count", 5, 0));
+        seen.add(x.of("count", 6, 0));
+        seen.add(x.of("judge", 1, 0));
+        seen.add(x.of("clear", 0, 0));
+        seen.add(x.of("auction", 0, 0));
         addSale(x, seen);
-        seen.add((long) x.on());
+        seen.add(x.of("on", 0, 0));
         addSale(x, seen);
         return seen;
     }
 
-    private static void addSale(BundlesOfBids x, List<Long> seen) {
+    private static void addSale(Asked x, List<Long> seen) {
         for (int what = 0; what <= 4; what++) {
-            seen.add((long) x.count(what));
+            seen.add(x.of("count", what, 0));
         }
-        for (int b = 0; b < x.count(0); b++) {
+        for (int b = 0; b < x.of("count", 0, 0); b++) {
             for (int what = 0; what < 4; what++) {
-                seen.add((long) x.bid(b, what));
+                seen.add(x.of("bid", b, what));
             }
         }
         for (int who = 0; who < 5; who++) {
             for (int what = 0; what < 3; what++) {
-                seen.add((long) x.bidder(who, what));
+                seen.add(x.of("bidder", who, what));
             }
         }
         for (int i = 0; i < 6; i++) {
-            seen.add((long) x.item(i, 0));
+            seen.add(x.of("item", i, 0));
         }
     }
 
@@ -302,12 +312,14 @@ public final class RefusalsTest {
         return state == State.EMPTY ? 0 : state == State.SOME ? 3 : 10;
     }
 
-    private static void fill(Twin twin, State state) {
+    private static Twin filled(State state) {
+        Twin twin = new Twin();
         if (state == State.SOME) {
             fillSome(twin);
         } else if (state == State.FULL) {
             fillWhole(twin);
         }
+        return twin;
     }
 
     private static void fillSome(Twin twin) {
