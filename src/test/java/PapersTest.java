@@ -17,8 +17,12 @@ public final class PapersTest {
     private static final Path TESTS = Path.of("src/test/java");
 
     public static void main(String[] args) throws IOException {
-        documentsFace();
-        promisesHaveTests();
+        if (Files.exists(DOCUMENT)) {
+            documentsFace();
+            promisesHaveTests();
+        } else {
+            System.out.println("PapersTest: no " + DOCUMENT + " to look at");
+        }
         readmesExample();
         readmesNames();
         CHECKS.end("PapersTest");
