@@ -64,10 +64,14 @@ public final class ModelRunsTest {
             } else if (choice < 30) {
                 change();
             } else {
-                String name = Calls.NAMES[7 + random.nextInt(Calls.NAMES.length - 7)];
-                ask(name.equals("on") && upTo(3) > 0 ? "lifts" : name);
+                askAny();
             }
         }
+    }
+
+    private void askAny() {
+        String name = Calls.NAMES[7 + random.nextInt(Calls.NAMES.length - 7)];
+        ask(name.equals("on") && upTo(3) > 0 ? "lifts" : name);
     }
 
     /** A sale of three bidders of all kinds, and of it each thing that can be asked. */
@@ -277,6 +281,12 @@ public final class ModelRunsTest {
     private void say(String text) {
         for (int i = 0; i < text.length(); i++) {
             compare("letter", new int[] {text.charAt(i)});
+            // Letters stay whatever is asked or changed between them.
+            if (calls < CALLS && upTo(19) == 0) {
+                askAny();
+            } else if (calls < CALLS && upTo(39) == 0) {
+                change();
+            }
         }
         compare("auction", new int[0]);
     }
